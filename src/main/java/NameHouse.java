@@ -120,7 +120,7 @@ public final class NameHouse {
         if (!isKind(kind) || !takesName(n)) {
             return refused(NO_NAME);
         }
-        if (isNamedIn(scope, taken) || wouldCatchUse(scope, taken)) {
+        if (isNameOfOther(NONE, scope, taken, false) || wouldCatchUse(scope, taken, false)) {
             return refused(THERE_ALREADY);
         }
         if (things.isFull()) {
@@ -204,22 +204,24 @@ public final class NameHouse {
         return kind >= 0 && kind < KINDS;
     }
 
-    private boolean isNamedIn(int scope, Text wantedName) {
+    /** Whether the scope has a thing of that name beside the one told. */
+    private boolean isNameOfOther(int thing, int scope, Text newName, boolean then) {
         for (int t = 0; t < things.size(); t++) {
-            if (things.scopeOf(t) == scope && things.nameOf(t).same(wantedName)) {
+            if (t != thing && things.scopeOf(t) == scope
+                    && nameNowOrThen(t, then).same(newName)) {
                 return true;
             }
         }
         return false;
     }
 
-    /** Whether a use would mean a new thing of that scope and name in place of the one it means. */
-    private boolean wouldCatchUse(int scope, Text newName) {
+    /** Whether a use would mean a thing of that scope and name in place of one further out. */
+    private boolean wouldCatchUse(int scope, Text newName, boolean then) {
         for (int u = 0; u < uses.size(); u++) {
             int meant = uses.thingOf(u);
-            if (scopes.isWithin(uses.scopeOf(u), scope)
-                    && scope > things.scopeOf(meant)
-                    && things.nameOf(meant).same(newName)) {
+            if (scope > things.scopeOf(meant)
+                    && scopes.isWithin(uses.scopeOf(u), scope)
+                    && nameNowOrThen(meant, then).same(newName)) {
                 return true;
             }
         }
@@ -506,7 +508,7 @@ public final class NameHouse {
         for (int t = 0; t < THINGS; t++) {
             if (wanted[t]) {
                 pending.putAgain(t);
-                if (!isSafe()) {
+                if (!staysSafe(t)) {
                     pending.drop(t);
                 }
             }
@@ -578,6 +580,24 @@ public final class NameHouse {
         return firstDoubled() == NOTHING && firstStrayed() == NOTHING;
     }
 
+    /**
+     * Whether all is safe with the rename of a thing, given that it is without: only what touches
+     * that thing is looked at, for with no renames all is safe always.
+     */
+    private boolean staysSafe(int thing) {
+        int home = things.scopeOf(thing);
+        Text then = nameNowOrThen(thing, true);
+        if (isNameOfOther(thing, home, then, true) || wouldCatchUse(home, then, true)) {
+            return false;
+        }
+        for (int u = 0; u < uses.size(); u++) {
+            if (uses.thingOf(u) == thing && isStrayed(u)) {
+                return false;
+            }
+        }
+        return true;
+    }
+
     /** The first thing whose name then one of its scope with a lesser number has too. */
     private int firstDoubled() {
         for (int t = 1; t < things.size(); t++) {
@@ -595,12 +615,16 @@ public final class NameHouse {
     /** The first use that means another thing then. */
     private int firstStrayed() {
         for (int u = 0; u < uses.size(); u++) {
-            int meant = uses.thingOf(u);
-            if (thingMeant(uses.scopeOf(u), nameNowOrThen(meant, true), true) != meant) {
+            if (isStrayed(u)) {
                 return u;
             }
         }
         return NOTHING;
+    }
+
+    private boolean isStrayed(int use) {
+        int meant = uses.thingOf(use);
+        return thingMeant(uses.scopeOf(use), nameNowOrThen(meant, true), true) != meant;
     }
 
     // ---- bytes

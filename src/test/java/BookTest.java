@@ -68,6 +68,15 @@ public final class BookTest {
     Due.thing(x, 0, 0, letters(59) + "_" + letters(0));
     due.is("14: the last one is found", x.part(0, 0), 59);
     due.is("14: the first one is found", x.part(0, 1), 0);
+    for (int i = 0; i < 59; i++) {
+      due.is("12: alike " + i, x.alike(i, i + 1), true);
+    }
+    due.is("13: all in one group", x.told(59, 4), 60);
+    due.is("13: its head", x.told(30, 3), 0);
+    due.is("13: its last one's use", x.told(59, 2), 1);
+    due.is("18: two of it are used", x.mixed(), 1);
+    due.is("20: the head for both", x.offer(0), 7);
+    due.is("20: its bytes", Due.out(x), letters(0) + "_" + letters(0));
   }
 
   private static void shorts() {
@@ -208,6 +217,13 @@ public final class BookTest {
     due.is("14: thing 1", x.part(1, 0), -1);
     Due.thing(x, 0, 0, "abcdefghijklmget");
     due.is("14: a long part is no word", x.part(1, 0), -2);
+    int twelve = Due.word(x, 1, "abcdefghijkl");
+    Due.thing(x, 0, 0, "pabcdefghijkl_abcdefghijkl");
+    due.is("14: too long for a name", x.about(2, 0), -1);
+    Due.thing(x, 0, 0, "pabcdefghijkl");
+    due.is("14: nor is it by its last twelve letters", x.part(2, 0), -2);
+    Due.thing(x, 0, 0, "Abcdefghijkl");
+    due.is("14: twelve letters may be one", x.part(3, 0), twelve);
   }
 
   private static void roles() {

@@ -19,6 +19,7 @@ public final class RenamesTest {
     backRefused();
     keep();
     keepAll();
+    fullHouse();
     count();
     trouble();
     due.end();
@@ -387,6 +388,38 @@ public final class RenamesTest {
     due.is("26: made", x.turn(), 79);
     due.is("28: the first", Due.name(x, 0), "n0");
     due.is("28: the last", Due.name(x, 79), "n158");
+  }
+
+  /** Each row of the house is full but the uses, for which 512 calls don't do. */
+  private static void fullHouse() {
+    NameHouse x = new NameHouse();
+    for (int s = 1; s < 20; s++) {
+      x.scope(s - 1);
+    }
+    for (int t = 0; t < 80; t++) {
+      Due.thing(x, t / 4, t % 3, "cnt" + (char) ('A' + t % 4));
+    }
+    for (int u = 0; u < 80; u++) {
+      Due.use(x, 19, "cnt" + (char) ('A' + u % 4));
+    }
+    Due.word(x, 2, "cnt");
+    Due.word(x, 2, "count");
+    x.shorts(0, 1);
+    due.is("6: the last thing's uses", x.about(79, 6), 20);
+    due.is("6: those of the one around", x.about(75, 6), 0);
+    due.is("23: of all", x.renames(), 80);
+    due.is("25: safe", x.hinders(), -2);
+    due.is("28: one by one too", x.keep(), 80);
+    Due.rename(x, 79, "countA");
+    due.is("25: two of the last scope", x.hinders(), 79);
+    due.is("28: all but the last", x.keep(), 79);
+    due.is("26: made", x.turn(), 79);
+    due.is("15: the way of each kind", x.way(0), 0x20);
+    due.is("16: none is odd", x.odd(2), 0);
+    due.is("13: used", x.told(1, 2), 80);
+    due.is("19: the last letters are strange", x.strange(), 80);
+    due.is("27: taken back", x.back(), 79);
+    due.is("27: a name", Due.name(x, 0), "cntA");
   }
 
   private static void count() {
