@@ -1,360 +1,544 @@
 /** Promises 10 to 19: the book, the way in which things of a kind are named, and the odd ones. */
 public final class BookTest {
-  private static final int LOW = Integer.MIN_VALUE;
-  private static final int HIGH = Integer.MAX_VALUE;
-  private static final Due due = new Due("BookTest");
+  private static final Due due =
+      new Due("BookTest", "10", "11", "12", "13", "14", "15", "16", "17", "18", "19");
 
   public static void main(String[] args) {
     word();
-    wordRoom();
     shorts();
-    openedInRings();
     alike();
     told();
     part();
-    roles();
     way();
-    wayOfAll();
     odd();
     mixed();
     strange();
     due.end();
   }
 
+  // ---- 10
+
   private static void word() {
-    NameHouse x = new NameHouse();
-    due.accepted("10: roles 0", x, Due.word(x, 0, "a"), 0);
-    due.accepted("10: roles 15", x, Due.word(x, 15, "zzzzzzzzzzzz"), 1);
-    due.accepted("10: like the first, longer", x, Due.word(x, 1, "aa"), 2);
-    due.refused("10: there already", x, Due.word(x, 1, "a"), 4);
-    due.refused("10: thirteen letters", x, Due.word(x, 1, "abcdefghijklm"), 2);
-    due.refused("10: a longer one still", x, Due.word(x, 1, "abcdefghijklmnopqrstuvwxyz"), 2);
-    String[] bad = {"aB", "B", "a1", "1", "_", "a_b", " ", "a`", "a{", "\u00e9", "\u0000"};
-    for (String text : bad) {
-      due.refused("10: '" + text + "'", x, Due.word(x, 1, text), 2);
-      due.is("10: tape empty behind '" + text + "'", x.count(6), 0);
-    }
-    Due.feed(x, "b");
-    int[] wrongRoles = {-1, 16, HIGH, LOW};
-    for (int roles : wrongRoles) {
-      due.refused("10: roles " + roles, x, x.word(roles, 1), 2);
-    }
-    int[] wrongBytes = {-1, 21, HIGH, LOW};
-    for (int n : wrongBytes) {
-      due.refused("10: n " + n, x, x.word(0, n), 2);
-    }
-    due.is("10: tape left by these", x.count(6), 20);
-    due.refused("10: no bytes are no word", x, x.word(0, 0), 2);
-    due.is("10: tape empty behind them", x.count(6), 0);
-    due.is("10: they are counted", x.count(3), 3);
+    due.test("10", "A WORD with ROLES (0 .. 15): its number", BookTest::wordNumbers);
+    due.test("10", "NONE: 2", BookTest::wordNone);
+    due.test("10", "; 4", BookTest::wordThere);
+    due.test("10", "; 3", BookTest::wordNoRoom);
   }
 
-  private static String letters(int i) {
-    return "w" + (char) ('a' + i / 26) + (char) ('a' + i % 26);
+  private static void wordNumbers() {
+    for (int i = 0; i < 16; i++) {
+      int roles = i;
+      due.accepted("roles " + i, Made.book("x"), h -> h.word(roles, "a"), 1);
+      due.is("its roles", House.of(h -> h.word(roles, "a")).told(0, 0), roles);
+    }
+    due.accepted("the last", Made.words(59), h -> h.word(15, "a"), 59);
+    House h = House.of(Made.book("b"));
+    due.is("refused", h.word(0, "B"), -1);
+    due.is("the next number", h.word(0, "a"), 1);
+    due.is("short for none", h.told(1, 1), -1);
+    due.is("alone in its group", h.told(1, 4), 1);
+    due.is("counted", h.count(3), 2);
+    House.Calls turned = Made.named("a").and(c -> c.rename(0, "b")).and(c -> c.turn());
+    due.is("a word doesn't hinder back", House.of(turned.and(c -> c.word(0, "a"))).back(), 1);
   }
 
-  private static void wordRoom() {
-    NameHouse x = new NameHouse();
-    for (int i = 0; i < 60; i++) {
-      due.is("10: word " + i, Due.word(x, i % 16, letters(i)), i);
+  private static void wordNone() {
+    House.Calls fed = Made.book("x").and(Made.tape(20));
+    for (int roles : Made.outside(16)) {
+      due.refused("roles " + roles, fed, h -> h.word(roles, 3), 2);
     }
-    due.refused("10: no room", x, Due.word(x, 0, "more"), 3);
-    due.is("10: tape empty behind no room", x.count(6), 0);
-    due.refused("10: 4 comes ahead of 3", x, Due.word(x, 0, letters(59)), 4);
-    due.refused("10: 2 comes ahead of 3", x, Due.word(x, 0, "More"), 2);
-    due.is("10: sixty of them", x.count(3), 60);
-    due.is("13: the last one's roles", x.told(59, 0), 59 % 16);
-    due.is("13: no more", x.told(60, 0), -1);
-    Due.thing(x, 0, 0, letters(59) + "_" + letters(0));
-    due.is("14: the last one is found", x.part(0, 0), 59);
-    due.is("14: the first one is found", x.part(0, 1), 0);
-    for (int i = 0; i < 59; i++) {
-      due.is("12: alike " + i, x.alike(i, i + 1), true);
+    int[] wrong = {-1, -2, Made.LEAST, 21, 200, 201, Made.GREATEST};
+    for (int n : wrong) {
+      due.refused("by " + n, fed, h -> h.word(0, n), 2);
     }
-    due.is("13: all in one group", x.told(59, 4), 60);
-    due.is("13: its head", x.told(30, 3), 0);
-    due.is("13: its last one's use", x.told(59, 2), 1);
-    due.is("18: two of it are used", x.mixed(), 1);
-    due.is("20: the head for both", x.offer(0), 7);
-    due.is("20: its bytes", Due.out(x), letters(0) + "_" + letters(0));
+    due.refused("by 1 of none", Made.book("x"), h -> h.word(0, 1), 2);
+    String[] none = {"", "A", "aB", "Ab", "a1", "1", "_", "a_", "_a", "a b", " ", "\u00e9",
+        "abcdefghijklm", "a".repeat(20), "a".repeat(24), "a".repeat(200)};
+    for (String text : none) {
+      due.refused("'" + text + "'", Made.book("x"), h -> h.word(0, text), 2);
+    }
+    due.refused("roles ahead of there already", Made.book("x").and(h -> h.feed("x")),
+        h -> h.word(16, 1), 2);
+    due.refused("no word ahead of no room", Made.words(60), h -> h.word(0, "A"), 2);
+    due.refused("roles ahead of no room", Made.words(60), h -> h.word(-1, 0), 2);
   }
+
+  private static void wordThere() {
+    House.Calls three = h -> {
+      h.word(5, "ab");
+      h.word(0, "abcdefghijkl");
+      h.word(0, "b");
+      h.shorts(0, 2);
+      h.alike(0, 1);
+    };
+    due.refused("the same", three, h -> h.word(5, "ab"), 4);
+    due.refused("with other roles", three, h -> h.word(0, "ab"), 4);
+    due.refused("of twelve letters", three, h -> h.word(0, "abcdefghijkl"), 4);
+    due.refused("the latest", three, h -> h.word(0, "b"), 4);
+    String[] others = {"a", "abc", "ba", "bb", "aab", "abcdefghijk", "abcdefghijkm", "bbcdefghijkl"};
+    for (String other : others) {
+      due.accepted("but " + other, three, h -> h.word(0, other), 3);
+    }
+    due.refused("ahead of no room, the first", Made.words(60), h -> h.word(0, Made.word(0)), 4);
+    due.refused("ahead of no room, the last", Made.words(60), h -> h.word(0, Made.word(59)), 4);
+  }
+
+  private static void wordNoRoom() {
+    due.refused("the sixty-first", Made.words(60), h -> h.word(0, "a"), 3);
+    House h = House.of(Made.words(60).and(Made.named("a")));
+    h.word(0, "a");
+    due.is("there is none", h.told(60, 0), -1);
+    due.is("nor is a part it", h.part(0, 0), -2);
+  }
+
+  // ---- 11
 
   private static void shorts() {
-    NameHouse x = new NameHouse();
-    Due.word(x, 0, "num");
-    Due.word(x, 0, "number");
-    Due.word(x, 0, "n");
-    due.is("11: for another", x.shorts(0, 1), true);
-    due.is("11: no trouble", x.trouble(), 0);
-    due.is("13: for which", x.told(0, 1), 1);
-    due.is("13: for none", x.told(1, 1), -1);
-    int[][] wrong = {{0, 0}, {1, 1}, {3, 1}, {-1, 1}, {-1, -1}, {3, -1}, {0, 3}, {0, -2}, {0, LOW},
-        {HIGH, 0}, {0, HIGH}, {LOW, 0}};
-    for (int[] pair : wrong) {
-      x.shorts(0, 1);
-      due.is("11: " + pair[0] + " for " + pair[1], x.shorts(pair[0], pair[1]), false);
-      due.is("11: its trouble", x.trouble(), 1);
-      due.is("11: it stays as it was", x.told(0, 1), 1);
-    }
-    due.is("11: told anew", x.shorts(2, 0), true);
-    Due.thing(x, 0, 0, "n_num_number");
-    due.is("13: opened twice over", x.told(1, 2), 3);
-    due.is("13: a short one is not used", x.told(0, 2), 0);
-    due.is("11: in place of it", x.shorts(2, 1), true);
-    due.is("13: for which now", x.told(2, 1), 1);
-    due.is("11: for none", x.shorts(0, -1), true);
-    due.is("13: none now", x.told(0, 1), -1);
-    due.is("13: used by itself", x.told(0, 2), 1);
-    due.is("13: the other two", x.told(1, 2), 2);
+    due.test("11", "A WORD is SHORT for another one", BookTest::shortsTold);
+    due.test("11", "(-1: for none): true", BookTest::shortsForNone);
+    due.test("11", "false: 1", BookTest::shortsNoneSuch);
+    due.test("11", "(also for itself)", BookTest::shortsItself);
   }
 
-  /** Words short for one another in a ring are opened sixty times. */
-  private static void openedInRings() {
-    for (int ring = 2; ring <= 9; ring++) {
-      NameHouse x = new NameHouse();
-      for (int i = 0; i < ring; i++) {
-        Due.word(x, 0, letters(i));
-      }
-      for (int i = 0; i < ring; i++) {
-        x.shorts(i, (i + 1) % ring);
-      }
-      Due.thing(x, 0, 0, letters(0));
-      for (int i = 0; i < ring; i++) {
-        due.is("III: ring of " + ring + ", word " + i, x.told(i, 2), i == 60 % ring ? 1 : 0);
-      }
-    }
-    NameHouse x = new NameHouse();
-    for (int i = 0; i < 60; i++) {
-      Due.word(x, 0, letters(i));
-    }
-    for (int i = 0; i < 59; i++) {
-      x.shorts(i, i + 1);
-    }
-    Due.thing(x, 0, 0, letters(0));
-    due.is("III: a row of sixty is opened to its end", x.told(59, 2), 1);
+  private static final House.Calls NUM = Made.book("n", "num", "number");
+
+  private static void shortsTold() {
+    due.accepted("for a later one", NUM, h -> h.shorts(0, 2), 1);
+    due.accepted("for an earlier one", NUM, h -> h.shorts(2, 0), 1);
+    due.accepted("again", NUM.and(h -> h.shorts(0, 2)), h -> h.shorts(0, 2), 1);
+    due.accepted("round about", NUM.and(h -> h.shorts(0, 2)), h -> h.shorts(2, 0), 1);
+    due.accepted("the last for the first", Made.words(60), h -> h.shorts(59, 0), 1);
+    due.accepted("the first for the last", Made.words(60), h -> h.shorts(0, 59), 1);
+    House h = House.of(NUM.and(c -> c.shorts(0, 2)));
+    due.is("for which", h.told(0, 1), 2);
+    due.is("the others", h.told(1, 1), -1);
+    h.shorts(0, 1);
+    due.is("in place of it", h.told(0, 1), 1);
+    due.is("they aren't alike by it", h.told(0, 4), 1);
   }
+
+  private static void shortsForNone() {
+    due.accepted("from one", NUM.and(h -> h.shorts(0, 2)), h -> h.shorts(0, -1), 1);
+    due.accepted("from none", NUM, h -> h.shorts(0, -1), 1);
+    House h = House.of(NUM.and(c -> c.shorts(0, 2)).and(c -> c.shorts(1, 2)));
+    h.shorts(0, -1);
+    due.is("for none", h.told(0, 1), -1);
+    due.is("another still", h.told(1, 1), 2);
+    due.same("as it was", NUM.and(c -> c.shorts(0, 2)).and(c -> c.shorts(0, -1)), NUM);
+  }
+
+  private static void shortsNoneSuch() {
+    House.Calls made = NUM.and(h -> h.shorts(0, 2));
+    for (int w : Made.outside(3)) {
+      due.refusedBy("word " + w, 0, made, h -> h.shorts(w, 0), 1);
+      due.refusedBy("word " + w + " for none", 0, made, h -> h.shorts(w, -1), 1);
+      if (w != -1) {
+        due.refusedBy("for word " + w, 0, made, h -> h.shorts(0, w), 1);
+      }
+    }
+    for (int w : Made.outside(60)) {
+      due.refusedBy("word " + w + " of sixty", 0, Made.words(60), h -> h.shorts(w, 0), 1);
+    }
+  }
+
+  private static void shortsItself() {
+    House.Calls made = NUM.and(h -> h.shorts(0, 2));
+    for (int i = 0; i < 3; i++) {
+      int w = i;
+      due.refusedBy("word " + w, 0, made, h -> h.shorts(w, w), 1);
+    }
+  }
+
+  // ---- 12
 
   private static void alike() {
-    NameHouse x = new NameHouse();
-    String[] words = {"a", "b", "c", "d", "e"};
-    for (String word : words) {
-      Due.word(x, 0, word);
-    }
-    x.scope(9);
-    due.is("12: two", x.alike(0, 1), true);
-    due.is("12: no trouble", x.trouble(), 0);
-    due.is("12: two more", x.alike(3, 2), true);
-    due.is("13: group of 0", x.told(0, 4), 2);
-    due.is("13: group of 4", x.told(4, 4), 1);
-    due.is("12: of alike ones", x.alike(2, 1), true);
-    for (int w = 0; w < 4; w++) {
-      due.is("13: group of " + w, x.told(w, 4), 4);
-      due.is("13: head of " + w, x.told(w, 3), 0);
-    }
-    due.is("12: already", x.alike(0, 3), true);
-    due.is("12: itself", x.alike(4, 4), true);
-    due.is("13: group of 4 still", x.told(4, 4), 1);
-    due.is("13: group of 0 still", x.told(0, 4), 4);
-    int[][] wrong = {{0, 5}, {5, 0}, {-1, 0}, {0, -1}, {-1, -1}, {5, 5}, {HIGH, 0}, {0, LOW}};
-    for (int[] pair : wrong) {
-      x.alike(0, 0);
-      due.is("12: " + pair[0] + " and " + pair[1], x.alike(pair[0], pair[1]), false);
-      due.is("12: its trouble", x.trouble(), 1);
+    due.test("12", "Two WORDS are ALIKE: true", BookTest::alikeTold);
+    due.test("12", "false: 1", BookTest::alikeNoneSuch);
+    due.test("12", "(Alike already: true.)", BookTest::alikeAlready);
+  }
+
+  private static void alikeTold() {
+    due.accepted("two", NUM, h -> h.alike(0, 1), 1);
+    due.accepted("the other way", NUM, h -> h.alike(2, 0), 1);
+    due.accepted("the first and the last", Made.words(60), h -> h.alike(0, 59), 1);
+    due.same("either way", NUM.and(h -> h.alike(0, 1)), NUM.and(h -> h.alike(1, 0)));
+    due.same("of alike ones, in any order",
+        NUM.and(h -> h.alike(0, 1)).and(h -> h.alike(1, 2)),
+        NUM.and(h -> h.alike(2, 0)).and(h -> h.alike(1, 0)));
+    House h = House.of(NUM.and(c -> c.alike(2, 0)));
+    int[] groups = {2, 1, 2};
+    for (int w = 0; w < 3; w++) {
+      due.is("group of " + w, h.told(w, 4), groups[w]);
+      due.is("short for none", h.told(w, 1), -1);
     }
   }
+
+  private static void alikeNoneSuch() {
+    House.Calls made = NUM.and(h -> h.alike(0, 1));
+    for (int w : Made.outside(3)) {
+      due.refusedBy("one " + w, 0, made, h -> h.alike(w, 0), 1);
+      due.refusedBy("other " + w, 0, made, h -> h.alike(0, w), 1);
+      due.refusedBy("both " + w, 0, made, h -> h.alike(w, w), 1);
+    }
+    for (int w : Made.outside(60)) {
+      due.refusedBy("other " + w + " of sixty", 0, Made.words(60), h -> h.alike(0, w), 1);
+    }
+  }
+
+  private static void alikeAlready() {
+    House.Calls made = NUM.and(h -> h.alike(0, 1)).and(h -> h.alike(1, 2));
+    for (int i = 0; i < 9; i++) {
+      int one = i / 3;
+      int other = i % 3;
+      due.accepted(one + " and " + other, made, h -> h.alike(one, other), 1);
+      due.same("as it was", made.and(h -> h.alike(one, other)), made);
+    }
+    due.accepted("itself, alone", NUM, h -> h.alike(1, 1), 1);
+    due.same("alone still", NUM.and(h -> h.alike(1, 1)), NUM);
+  }
+
+  // ---- 13
 
   private static void told() {
-    NameHouse x = new NameHouse();
-    Due.word(x, 5, "cnt");
-    Due.word(x, 2, "count");
-    Due.word(x, 10, "size");
-    Due.word(x, 0, "len");
-    x.shorts(0, 1);
-    x.alike(2, 1);
-    x.alike(2, 3);
-    Due.thing(x, 0, 0, "sizeSizeLen");
-    Due.thing(x, 0, 1, "CNT_COUNT");
-    long[][] all = {{5, 1, 0, 0, 1}, {2, -1, 2, 1, 3}, {10, -1, 2, 1, 3}, {0, -1, 1, 1, 3}};
-    for (int w = 0; w < 4; w++) {
-      for (int what = 0; what < 5; what++) {
-        due.is("13: told(" + w + ", " + what + ")", x.told(w, what), all[w][what]);
+    due.test("13", "Of a WORD what 0 ROLES", BookTest::toldRoles);
+    due.test("13", "1 for which it is SHORT (NONE)", BookTest::toldShort);
+    due.test("13", "2 USED", BookTest::toldUsed);
+    due.test("13", "3 HEAD", BookTest::toldHead);
+    due.test("13", "4 how many its group has", BookTest::toldGroup);
+    due.test("13", "; NONE", BookTest::toldNone);
+  }
+
+  /** cnt short for count, and count, size, len alike; count and size used twice, len once. */
+  private static final House.Calls COUNTS = h -> {
+    h.word(5, "cnt");
+    h.word(2, "count");
+    h.word(15, "size");
+    h.word(0, "len");
+    h.shorts(0, 1);
+    h.alike(2, 1);
+    h.alike(2, 3);
+    h.thing(0, 0, "sizeSizeLen");
+    h.thing(0, 1, "CNT_COUNT");
+  };
+
+  private static void toldAll(int what, int... want) {
+    for (int i = 0; i < want.length; i++) {
+      int w = i;
+      due.asked("of " + w, COUNTS, h -> h.told(w, what), want[w]);
+    }
+  }
+
+  private static void toldRoles() {
+    toldAll(0, 5, 2, 15, 0);
+  }
+
+  private static void toldShort() {
+    toldAll(1, 1, -1, -1, -1);
+    House h = House.of(Made.words(60).and(c -> c.shorts(59, 58)));
+    due.is("of the last", h.told(59, 1), 58);
+    due.is("of the one ahead", h.told(58, 1), -1);
+  }
+
+  private static void toldUsed() {
+    toldAll(2, 0, 2, 2, 1);
+    House h = House.of(Made.words(60).and(Made.named(Made.word(59))));
+    due.is("of the last", h.told(59, 2), 1);
+    due.is("of the first", h.told(0, 2), 0);
+  }
+
+  private static void toldHead() {
+    toldAll(3, 0, 1, 1, 1);
+    House h = House.of(COUNTS.and(c -> c.thing(0, 0, "size9")));
+    for (int w = 1; w < 4; w++) {
+      due.is("by use, of " + w, h.told(w, 3), 2);
+    }
+    due.is("of the last of sixty", House.of(Made.words(60)).told(59, 3), 59);
+  }
+
+  private static void toldGroup() {
+    toldAll(4, 1, 3, 3, 3);
+  }
+
+  private static void toldNone() {
+    for (int i : Made.outside(5)) {
+      due.asked("what " + i, COUNTS, h -> h.told(0, i), -1);
+    }
+    for (int i : Made.outside(4)) {
+      for (int j = 0; j < 5; j++) {
+        int what = j;
+        due.asked("word " + i, COUNTS, h -> h.told(i, what), -1);
       }
     }
-    Due.thing(x, 0, 0, "size9");
-    due.is("13: the most used is head", x.told(1, 3), 2);
-    x.scope(9);
-    int[] wrong = {-1, 5, HIGH, LOW};
-    for (int i : wrong) {
-      due.is("13: word " + i, x.told(i, 0), -1);
-      due.is("13: what " + i, x.told(0, i), -1);
+    for (int i : Made.outside(60)) {
+      due.is("word " + i + " of sixty", House.of(Made.words(60)).told(i, 4), -1);
     }
-    due.is("13: leaves trouble", x.trouble(), 1);
-    Due.rename(x, 0, "x");
-    due.is("13: a rename told is no name yet", x.told(2, 2), 3);
-    x.turn();
-    due.is("13: made it is", x.told(2, 2), 1);
-    x.back();
-    due.is("13: taken back", x.told(2, 2), 3);
   }
+
+  // ---- 14
 
   private static void part() {
-    NameHouse x = new NameHouse();
-    Due.thing(x, 0, 0, "getTheSIZE2OfIt");
-    due.is("14: no word yet", x.part(0, 0), -2);
-    Due.word(x, 1, "get");
-    Due.word(x, 2, "size");
-    Due.word(x, 8, "it");
-    x.shorts(0, 1);
-    long[] parts = {0, -2, 1, -2, -2, 2, -1};
-    for (int i = 0; i < parts.length; i++) {
-      due.is("14: part " + i, x.part(0, i), parts[i]);
-    }
-    int[] wrong = {-1, 24, HIGH, LOW};
-    for (int i : wrong) {
-      due.is("14: part " + i, x.part(0, i), -1);
-      due.is("14: thing " + i, x.part(i, 0), -1);
-    }
-    due.is("14: thing 1", x.part(1, 0), -1);
-    Due.thing(x, 0, 0, "abcdefghijklmget");
-    due.is("14: a long part is no word", x.part(1, 0), -2);
-    int twelve = Due.word(x, 1, "abcdefghijkl");
-    Due.thing(x, 0, 0, "pabcdefghijkl_abcdefghijkl");
-    due.is("14: too long for a name", x.about(2, 0), -1);
-    Due.thing(x, 0, 0, "pabcdefghijkl");
-    due.is("14: nor is it by its last twelve letters", x.part(2, 0), -2);
-    Due.thing(x, 0, 0, "Abcdefghijkl");
-    due.is("14: twelve letters may be one", x.part(3, 0), twelve);
+    due.test("14", "The WORD that PART i of a THING's NAME is", BookTest::partWord);
+    due.test("14", "-2 if it is none", BookTest::partNoWord);
+    due.test("14", "NONE for no such one", BookTest::partNone);
   }
 
-  private static void roles() {
-    NameHouse x = new NameHouse();
-    Due.thing(x, 0, 0, "a_b_c_d_e");
-    int[] lowest = {0, 1, 2, 1, 4, 1, 2, 1, 8, 1, 2, 1, 4, 1, 2, 1};
-    for (int roles = 0; roles < 16; roles++) {
-      String word = "r" + (char) ('a' + roles);
-      Due.word(x, roles, word);
-      int t = Due.thing(x, 0, 0, word);
-      due.is("III: role of " + roles, x.about(t, 5), lowest[roles]);
+  private static final House.Calls PARTS = h -> {
+    h.word(1, "get");
+    h.word(2, "size");
+    h.word(8, "it");
+    h.word(0, "abcdefghijkl");
+    h.shorts(0, 1);
+    h.alike(1, 2);
+    h.thing(0, 0, "getTheSIZE2OfIt");
+    h.thing(0, 0, "Abcdefghijkl");
+    h.thing(0, 0, "abcdefghijklm");
+    h.thing(0, 0, "mabcdefghijkl");
+    h.thing(0, 0, "gets_ge_Get");
+  };
+
+  private static void parts(int thing, int... want) {
+    for (int i = 0; i < want.length; i++) {
+      int at = i;
+      due.asked("part " + at + " of " + thing, PARTS, h -> h.part(thing, at), want[at]);
     }
-    due.is("III: no words", x.about(0, 5), 0);
-    Due.word(x, 8, "e");
-    due.is("III: the fifth part is left out", x.about(0, 5), 0);
-    Due.word(x, 8, "d");
-    due.is("III: the fourth", x.about(0, 5), 8);
-    Due.word(x, 4, "c");
-    Due.word(x, 2, "b");
-    Due.word(x, 1, "a");
-    due.is("III: the first highest", x.about(0, 5), 0x1248);
-    x.shorts(x.part(0, 0), x.part(0, 3));
-    due.is("III: the pattern is of parts as they are", x.about(0, 5), 0x1248);
   }
+
+  private static void partWord() {
+    parts(0, 0, -2, 1, -2, -2, 2);
+    parts(1, 3);
+    House h = House.of(Made.words(60).and(Made.named(Made.word(59) + "_" + Made.word(0))));
+    due.is("the last word", h.part(0, 0), 59);
+    due.is("the first word", h.part(0, 1), 0);
+    House last = House.of(Made.book("z").and(Made.named("a1b2c3d4e5f6g7h8i9j0k1_z")));
+    due.is("the last of many parts", last.part(0, 22), 0);
+  }
+
+  private static void partNoWord() {
+    parts(2, -2);
+    parts(3, -2);
+    parts(4, -2, -2, 0);
+    House h = House.of(Made.named("a1b2c3d4e5f6g7h8i9j0k1l2"));
+    for (int i = 0; i < 24; i++) {
+      due.is("in an empty book, part " + i, h.part(0, i), -2);
+    }
+  }
+
+  private static void partNone() {
+    parts(0, 0, -2, 1, -2, -2, 2, -1);
+    for (int i : Made.outside(6)) {
+      due.asked("part " + i, PARTS, h -> h.part(0, i), -1);
+    }
+    for (int i : Made.outside(5)) {
+      due.asked("thing " + i, PARTS, h -> h.part(i, 0), -1);
+    }
+    House.Calls many = Made.named("a1b2c3d4e5f6g7h8i9j0k1l2");
+    for (int i : Made.outside(24)) {
+      due.is("part " + i + " of 24", House.of(many).part(0, i), -1);
+    }
+    House.Calls fewer = many.and(h -> h.rename(0, "a")).and(h -> h.turn());
+    due.asked("what a longer name left", fewer, h -> h.part(0, 1), -1);
+  }
+
+  // ---- 15, 16, 17
 
   private static void way() {
-    NameHouse x = new NameHouse();
-    for (int kind = 0; kind < 3; kind++) {
-      due.is("15: no things", x.way(kind), -2);
-      due.is("16: no things", x.odd(kind), 0);
-    }
-    int[] wrong = {-1, 3, HIGH, LOW};
-    for (int kind : wrong) {
-      due.is("15: kind " + kind, x.way(kind), -1);
-      due.is("16: kind " + kind, x.odd(kind), -1);
-    }
-    Due.word(x, 1, "get");
-    Due.word(x, 2, "size");
-    Due.thing(x, 0, 1, "sizeGet");
-    due.is("15: one thing's", x.way(1), 0x21);
-    due.is("15: not another kind's", x.way(0), -2);
-    Due.thing(x, 0, 1, "getSize");
-    due.is("15: the least of as frequent ones", x.way(1), 0x12);
-    Due.thing(x, 0, 1, "size_get");
-    due.is("15: the most frequent", x.way(1), 0x21);
-    Due.thing(x, 0, 1, "get_size");
-    due.is("15: the least again", x.way(1), 0x12);
-    Due.thing(x, 0, 0, "thing");
-    due.is("15: of no roles", x.way(0), 0);
+    due.test("15", "WAY of a KIND", BookTest::wayOfKind);
+    due.test("15", "-2 if it has no THINGS", BookTest::wayOfNothing);
+    due.test("15", "NONE", BookTest::wayNone);
   }
 
-  /** Eighty things, whose most frequent pattern comes late. */
-  private static void wayOfAll() {
-    NameHouse x = new NameHouse();
-    Due.word(x, 1, "a");
-    Due.word(x, 2, "b");
-    for (int i = 0; i < 80; i++) {
-      Due.thing(x, 0, 2, (i < 26 ? "x" : i < 53 ? "b" : "a") + i);
+  /** Acts getSize (twice), size and getIt; one value size2; no sorts. */
+  private static final House.Calls ACTS = h -> {
+    h.word(1, "get");
+    h.word(2, "size");
+    h.thing(0, 1, "getSize");
+    h.thing(0, 1, "size");
+    h.thing(0, 1, "getIt");
+    h.thing(0, 1, "get_size");
+    h.thing(0, 0, "size2");
+  };
+
+  private static void wayOfKind() {
+    due.asked("of values", ACTS, h -> h.way(0), 0x20);
+    due.asked("of acts", ACTS, h -> h.way(1), 0x12);
+    House.Calls least = ACTS.and(h -> h.thing(0, 1, "SIZE"));
+    due.asked("the least of as frequent ones", least, h -> h.way(1), 0x2);
+    due.asked("of no roles", Made.named("x"), h -> h.way(0), 0);
+    House.Calls told = Made.named("x").and(h -> h.word(1, "y")).and(h -> h.rename(0, "y"));
+    due.asked("a rename told is no name", told, h -> h.way(0), 0);
+    due.asked("one made is", told.and(h -> h.turn()), h -> h.way(0), 1);
+    House.Calls all = Made.book("x").and(h -> h.word(4, "n")).and(Made.things(80));
+    for (int kind = 0; kind < 3; kind++) {
+      due.is("of eighty", House.of(all).way(kind), 0x40);
     }
-    due.is("15: twenty-seven of each: the least", x.way(2), 0x10);
-    due.is("16: the others", x.odd(2), 53);
-    Due.rename(x, 79, "b79");
-    x.turn();
-    due.is("15: by a rename the other", x.way(2), 0x20);
-    due.is("16: fewer", x.odd(2), 52);
-    due.is("17: the last one isn't", x.isOdd(79), 0);
-    due.is("17: the one ahead of it is", x.isOdd(78), 1);
+    House.Calls inScopes = ACTS.and(Made.deep(2)).and(h -> h.thing(1, 1, "size")).and(
+        h -> h.thing(1, 1, "Size"));
+    due.asked("of all scopes", inScopes, h -> h.way(1), 0x2);
+  }
+
+  private static void wayOfNothing() {
+    due.asked("of sorts", ACTS, h -> h.way(2), -2);
+    for (int i = 0; i < 3; i++) {
+      int kind = i;
+      due.asked("in a new house", Made.NEW, h -> h.way(kind), -2);
+      due.asked("in a house of words", Made.words(3), h -> h.way(kind), -2);
+    }
+  }
+
+  private static void wayNone() {
+    for (int kind : Made.outside(3)) {
+      due.asked("kind " + kind, ACTS, h -> h.way(kind), -1);
+      due.asked("kind " + kind + " in a new house", Made.NEW, h -> h.way(kind), -1);
+    }
   }
 
   private static void odd() {
-    NameHouse x = new NameHouse();
-    Due.word(x, 1, "get");
-    Due.word(x, 2, "size");
-    Due.thing(x, 0, 1, "getSize");
-    Due.thing(x, 0, 1, "size");
-    Due.thing(x, 0, 1, "getIt");
-    Due.thing(x, 0, 1, "get_size");
-    Due.thing(x, 0, 0, "size2");
-    due.is("16: of acts", x.odd(1), 2);
-    due.is("16: of values", x.odd(0), 0);
-    int[] odds = {0, 1, 1, 0, 0};
-    for (int t = 0; t < odds.length; t++) {
-      due.is("17: thing " + t, x.isOdd(t), odds[t]);
-    }
-    int[] wrong = {-1, 5, 80, HIGH, LOW};
-    for (int t : wrong) {
-      due.is("17: thing " + t, x.isOdd(t), -1);
-    }
-    due.is("17: leaves trouble", x.trouble(), 0);
+    due.test("16", "How many THINGS of a KIND are ODD", BookTest::oddOfKind);
+    due.test("16", "NONE", BookTest::oddNone);
+    due.test("17", "Whether a THING is ODD: 1, 0", BookTest::isOdd);
+    due.test("17", "NONE", BookTest::isOddNone);
   }
+
+  private static void oddOfKind() {
+    due.asked("of acts", ACTS, h -> h.odd(1), 2);
+    due.asked("of values", ACTS, h -> h.odd(0), 0);
+    due.asked("of sorts, which there are none of", ACTS, h -> h.odd(2), 0);
+    for (int i = 0; i < 3; i++) {
+      int kind = i;
+      due.asked("in a new house", Made.NEW, h -> h.odd(kind), 0);
+    }
+    House.Calls halves = h -> {
+      h.word(1, "a");
+      h.word(2, "b");
+      for (int t = 0; t < 80; t++) {
+        h.thing(0, 2, (t < 40 ? "b" : "a") + t);
+      }
+    };
+    due.is("forty of eighty", House.of(halves).odd(2), 40);
+    due.is("the first is", House.of(halves).isOdd(0), 1);
+    due.is("the last isn't", House.of(halves).isOdd(79), 0);
+    House.Calls one = halves.and(h -> h.rename(79, "b79")).and(h -> h.turn());
+    due.is("one fewer", House.of(one).odd(2), 39);
+    due.is("the first isn't now", House.of(one).isOdd(0), 0);
+    due.is("the last isn't", House.of(one).isOdd(79), 0);
+    due.is("the one ahead is", House.of(one).isOdd(78), 1);
+  }
+
+  private static void oddNone() {
+    for (int kind : Made.outside(3)) {
+      due.asked("kind " + kind, ACTS, h -> h.odd(kind), -1);
+      due.asked("kind " + kind + " in a new house", Made.NEW, h -> h.odd(kind), -1);
+    }
+  }
+
+  private static void isOdd() {
+    int[] want = {0, 1, 1, 0, 0};
+    for (int i = 0; i < want.length; i++) {
+      int thing = i;
+      due.asked("thing " + i, ACTS, h -> h.isOdd(thing), want[i]);
+    }
+    due.asked("the only one of its kind", Made.named("x"), h -> h.isOdd(0), 0);
+  }
+
+  private static void isOddNone() {
+    for (int thing : Made.outside(5)) {
+      due.asked("thing " + thing, ACTS, h -> h.isOdd(thing), -1);
+    }
+    for (int thing : Made.outside(80)) {
+      due.is("thing " + thing + " of eighty", House.of(Made.things(80)).isOdd(thing), -1);
+    }
+  }
+
+  // ---- 18
 
   private static void mixed() {
-    NameHouse x = new NameHouse();
-    due.is("18: an empty book", x.mixed(), 0);
-    String[] words = {"a", "b", "c", "d", "e", "f", "g"};
-    for (String word : words) {
-      Due.word(x, 0, word);
-    }
-    x.alike(0, 1);
-    x.alike(2, 3);
-    x.alike(3, 4);
-    due.is("18: none used", x.mixed(), 0);
-    Due.thing(x, 0, 0, "aAF");
-    Due.thing(x, 0, 0, "a_a_f_g");
-    due.is("18: one used twice", x.mixed(), 0);
-    Due.thing(x, 0, 0, "b");
-    due.is("18: two used", x.mixed(), 1);
-    Due.thing(x, 0, 0, "c_d_e");
-    due.is("18: another group", x.mixed(), 2);
-    x.shorts(1, 0);
-    due.is("18: opened they are one", x.mixed(), 1);
-    x.shorts(1, -1);
-    x.alike(4, 0);
-    due.is("18: two groups made one", x.mixed(), 1);
-    x.alike(5, 6);
-    due.is("18: one more", x.mixed(), 2);
+    due.test("18", "How many groups of two WORDS or more", BookTest::mixedGroups);
+    due.test("18", "have more than one with USED above 0", BookTest::mixedUsed);
   }
 
+  private static final House.Calls SEVEN = Made.book("a", "b", "c", "d", "e", "f", "g").and(h -> {
+    h.alike(0, 1);
+    h.alike(2, 3);
+    h.alike(3, 4);
+  });
+
+  private static void mixedGroups() {
+    due.asked("an empty book", Made.named("a"), h -> h.mixed(), 0);
+    due.asked("words alone", Made.book("a", "b").and(Made.named("a_b_a_b")), h -> h.mixed(), 0);
+    due.asked("none used", SEVEN, h -> h.mixed(), 0);
+    House.Calls all = SEVEN.and(Made.named("a_b_c_d_e_f_g"));
+    due.asked("two groups", all, h -> h.mixed(), 2);
+    due.asked("three", all.and(h -> h.alike(6, 5)), h -> h.mixed(), 3);
+    due.asked("two made one", all.and(h -> h.alike(1, 4)), h -> h.mixed(), 1);
+    House pairs = House.of(Made.words(60).and(h -> {
+      for (int w = 0; w < 60; w += 2) {
+        h.alike(59 - w, 58 - w);
+        h.thing(0, 0, Made.word(w) + "_" + Made.word(w + 1));
+      }
+    }));
+    due.is("thirty", pairs.mixed(), 30);
+    House one = House.of(Made.words(60).and(h -> {
+      for (int w = 1; w < 60; w++) {
+        h.alike(w, 0);
+      }
+      h.thing(0, 0, Made.word(58) + "_" + Made.word(59));
+    }));
+    due.is("one of sixty words", one.mixed(), 1);
+  }
+
+  private static void mixedUsed() {
+    due.asked("one used", SEVEN.and(Made.named("a")), h -> h.mixed(), 0);
+    due.asked("one used twice", SEVEN.and(Made.named("a_a", "a")), h -> h.mixed(), 0);
+    due.asked("two used in one name", SEVEN.and(Made.named("a_b")), h -> h.mixed(), 1);
+    due.asked("two used in two", SEVEN.and(Made.named("e", "d")), h -> h.mixed(), 1);
+    due.asked("three used", SEVEN.and(Made.named("e", "d", "c")), h -> h.mixed(), 1);
+    House.Calls opened = SEVEN.and(Made.named("a_b")).and(h -> h.shorts(1, 0));
+    due.asked("opened they are one", opened, h -> h.mixed(), 0);
+    House.Calls openedTo = SEVEN.and(Made.named("a_f")).and(h -> h.shorts(5, 1));
+    due.asked("opened they are two", openedTo, h -> h.mixed(), 1);
+    House.Calls told = SEVEN.and(Made.named("a_b")).and(h -> h.rename(0, "a"));
+    due.asked("a rename told is no name", told, h -> h.mixed(), 1);
+    due.asked("one made is", told.and(h -> h.turn()), h -> h.mixed(), 0);
+  }
+
+  // ---- 19
+
   private static void strange() {
-    NameHouse x = new NameHouse();
-    due.is("19: no things", x.strange(), 0);
-    Due.thing(x, 0, 0, "aB1c22");
-    due.is("19: digits aren't", x.strange(), 3);
-    Due.thing(x, 0, 0, "a_a");
-    due.is("19: each part counts", x.strange(), 5);
-    Due.word(x, 0, "a");
-    due.is("19: a word isn't", x.strange(), 2);
-    Due.word(x, 0, "zz");
-    x.shorts(0, 1);
-    due.is("19: nor a short one", x.strange(), 2);
-    Due.thing(x, 0, 0, "abcdefghijklmnopqrstuvwx");
-    due.is("19: a long part is", x.strange(), 3);
+    due.test("19", "How many PARTS of THINGS' NAMES are no WORDS", BookTest::strangeParts);
+    due.test("19", "(as they are", BookTest::strangeAsTheyAre);
+    due.test("19", "but those of digits)", BookTest::strangeDigits);
+  }
+
+  private static void strangeParts() {
+    due.asked("no things", Made.book("a"), h -> h.strange(), 0);
+    due.asked("all", Made.named("aBC", "a_a"), h -> h.strange(), 4);
+    due.asked("but words", Made.book("a").and(Made.named("aBC", "a_a")), h -> h.strange(), 1);
+    due.asked("none", Made.book("a", "bc").and(Made.named("aBC", "a_a")), h -> h.strange(), 0);
+    String thirteen = "abcdefghijklm";
+    due.asked("too long for a word", Made.book("a").and(Made.named(thirteen)), h -> h.strange(), 1);
+    House.Calls full = Made.deep(20).and(h -> {
+      for (int s = 0; s < 20; s++) {
+        h.thing(s, s % 3, "a_b_c_d_e_f_g_h_i_j_k_l");
+      }
+    });
+    due.is("in all scopes and kinds", House.of(full).strange(), 240);
+    House.Calls told = Made.named("a").and(h -> h.rename(0, "b_c"));
+    due.asked("a rename told is no name", told, h -> h.strange(), 1);
+    due.asked("one made is", told.and(h -> h.turn()), h -> h.strange(), 2);
+  }
+
+  private static void strangeAsTheyAre() {
+    House.Calls made = Made.book("a", "zz").and(Made.named("a_b"));
+    due.asked("a short word is one", made.and(h -> h.shorts(0, 1)), h -> h.strange(), 1);
+    House.Calls ring = made.and(h -> h.shorts(0, 1)).and(h -> h.shorts(1, 0));
+    due.asked("in a ring too", ring, h -> h.strange(), 1);
+    due.asked("an alike one is", made.and(h -> h.alike(0, 1)), h -> h.strange(), 1);
+  }
+
+  private static void strangeDigits() {
+    due.asked("one", Made.named("a1"), h -> h.strange(), 1);
+    due.asked("many", Made.named("a1b2c3d4e5f6g7h8i9j0k1l2"), h -> h.strange(), 12);
+    due.asked("a row of them", Made.book("a").and(Made.named("a0123456789")), h -> h.strange(), 0);
+    due.asked("between lines", Made.book("a").and(Made.named("_0_a_9_")), h -> h.strange(), 0);
   }
 }

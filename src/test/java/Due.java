@@ -1,20 +1,47 @@
-import java.util.NoSuchElementException;
+import java.util.ArrayList;
+import java.util.List;
 
-/** What the tests share: answers held against those due, and calls by texts in place of the tape. */
+/**
+ * Tests of the document's sentences: each quotes the words that it holds the class to, and answers are
+ * held against those due. At the end no word of the sections told may be left without a test.
+ */
 final class Due {
-  private final String test;
+  private final String name;
+  private final String[] sections;
+  private final Doc doc = new Doc();
+  private String at = "";
+  private int tests = 0;
+  private int answers = 0;
   private int wrong = 0;
-  private int asked = 0;
 
-  Due(String test) {
-    this.test = test;
+  Due(String name, String... sections) {
+    this.name = name;
+    this.sections = sections;
+  }
+
+  /** One test, of words that stand in a section of the document. */
+  void test(String section, String words, Runnable body) {
+    tests++;
+    at = section + " '" + words + "'";
+    if (!doc.says(section, words)) {
+      fault("the document doesn't say that there");
+    }
+    try {
+      body.run();
+    } catch (RuntimeException e) {
+      fault("threw " + e);
+    }
+  }
+
+  private void fault(String what) {
+    wrong++;
+    System.out.println(name + ": " + at + ": " + what);
   }
 
   void is(String what, long got, long want) {
-    asked++;
+    answers++;
     if (got != want) {
-      wrong++;
-      System.out.println(test + ": " + what + " answered " + got + ", due is " + want);
+      fault(what + " answered " + got + ", due is " + want);
     }
   }
 
@@ -23,101 +50,76 @@ final class Due {
   }
 
   void is(String what, String got, String want) {
-    asked++;
+    answers++;
     if (!got.equals(want)) {
-      wrong++;
-      System.out.println(test + ": " + what + " answered '" + got + "', due is '" + want + "'");
+      fault(what + " answered '" + got + "', due is '" + want + "'");
     }
   }
 
-  /** The answer and the trouble behind it. */
-  void refused(String what, NameHouse house, long got, long trouble) {
-    is(what, got, NameHouse.NONE);
-    is(what + ", its trouble", house.trouble(), trouble);
+  /** Two houses, made by different calls, show the same in everything but TROUBLE. */
+  void same(String what, House.Calls made, House.Calls like) {
+    answers++;
+    List<String> got = State.of(made);
+    List<String> want = State.of(like);
+    if (!got.equals(want)) {
+      List<String> more = new ArrayList<>(got);
+      more.removeAll(want);
+      List<String> less = new ArrayList<>(want);
+      less.removeAll(got);
+      fault(what + ": the house shows " + more + ", due is " + less);
+    }
   }
 
-  void accepted(String what, NameHouse house, long got, long want) {
-    is(what, got, want);
-    is(what + ", its trouble", house.trouble(), 0);
+  /** A call is answered by NONE, with that trouble, and nothing else changes. */
+  void refused(String what, House.Calls made, House.Call call, int trouble) {
+    refusedBy(what, NameHouse.NONE, made, call, trouble);
+  }
+
+  /** Likewise, for the calls that answer false (0). */
+  void refusedBy(String what, int answer, House.Calls made, House.Call call, int trouble) {
+    House h = House.of(made);
+    is(what, call.on(h), answer);
+    is(what + ", its trouble", h.trouble(), trouble);
+    same(what + ", refused", made.and(c -> call.on(c)), made);
+  }
+
+  /** A call is answered, behind one that was refused, and there is no trouble then. */
+  void accepted(String what, House.Calls made, House.Call call, int answer) {
+    House h = House.of(made);
+    h.scope(NameHouse.NONE);
+    is(what, call.on(h), answer);
+    is(what + ", its trouble", h.trouble(), 0);
+  }
+
+  /** A call that isn't refused by a trouble has its answer, and changes nothing, TROUBLE neither. */
+  void asked(String what, House.Calls made, House.Call call, int answer) {
+    House h = House.of(made);
+    is(what, call.on(h), answer);
+    same(what + ", asked", made.and(c -> call.on(c)), made);
+    leavesTrouble(what, made, call);
+  }
+
+  void leavesTrouble(String what, House.Calls made, House.Call call) {
+    House calm = House.of(made);
+    int before = calm.trouble();
+    call.on(calm);
+    is(what + ", the trouble left", calm.trouble(), before);
+    House troubled = House.of(made);
+    troubled.scope(NameHouse.NONE);
+    call.on(troubled);
+    is(what + ", the trouble left", troubled.trouble(), 1);
   }
 
   void end() {
-    System.out.println(test + ": " + asked + " answers, " + wrong + " wrong");
+    for (String section : sections) {
+      for (String words : doc.unquoted(section)) {
+        at = section + " '" + words + "'";
+        fault("no test is of these words");
+      }
+    }
+    System.out.println(name + ": " + tests + " tests, " + answers + " answers, " + wrong + " wrong");
     if (wrong != 0) {
       System.exit(1);
-    }
-  }
-
-  static int feed(NameHouse house, String text) {
-    int tape = house.count(6);
-    for (int from = 0; from < text.length(); from += 20) {
-      int[] numbers = new int[5];
-      for (int i = 0; i < 20; i++) {
-        int b = from + i < text.length() ? text.charAt(from + i) & 255 : ' ';
-        numbers[i / 4] = numbers[i / 4] << 8 | b;
-      }
-      tape = house.feed(numbers[0], numbers[1], numbers[2], numbers[3], numbers[4]);
-    }
-    return tape;
-  }
-
-  static int thing(NameHouse house, int scope, int kind, String name) {
-    feed(house, name);
-    return house.thing(scope, kind, name.length());
-  }
-
-  static int use(NameHouse house, int scope, String name) {
-    feed(house, name);
-    return house.use(scope, name.length());
-  }
-
-  static int find(NameHouse house, int scope, String name) {
-    feed(house, name);
-    return house.find(scope, name.length());
-  }
-
-  static int word(NameHouse house, int roles, String word) {
-    feed(house, word);
-    return house.word(roles, word.length());
-  }
-
-  static int rename(NameHouse house, int thing, String name) {
-    feed(house, name);
-    return house.rename(thing, name.length());
-  }
-
-  /** A thing's name, read byte by byte. */
-  static String name(NameHouse house, int thing) {
-    StringBuilder text = new StringBuilder();
-    for (int i = 0; i < house.about(thing, 2); i++) {
-      text.append((char) house.name(thing, i));
-    }
-    return text.toString();
-  }
-
-  static String out(NameHouse house) {
-    StringBuilder text = new StringBuilder();
-    for (int i = 0; i < house.count(5); i++) {
-      text.append((char) house.out(i));
-    }
-    return text.toString();
-  }
-
-  static boolean nameThrows(NameHouse house, int thing, int i) {
-    try {
-      house.name(thing, i);
-      return false;
-    } catch (NoSuchElementException e) {
-      return true;
-    }
-  }
-
-  static boolean outThrows(NameHouse house, int i) {
-    try {
-      house.out(i);
-      return false;
-    } catch (NoSuchElementException e) {
-      return true;
     }
   }
 }

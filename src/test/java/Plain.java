@@ -169,6 +169,10 @@ final class Plain {
     return names.get(t).charAt(i);
   }
 
+  String nameOf(int t) {
+    return names.get(t);
+  }
+
   int means(int u, int what) {
     if (!in(u, uses) || what < 0 || what > 1) {
       return -1;

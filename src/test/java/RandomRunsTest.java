@@ -4,19 +4,18 @@ import java.util.Random;
 /** Long runs of calls, made by number, whose answers are held against those of Plain. */
 public final class RandomRunsTest {
   private static final int RUNS = 1500;
-  private static final int CALLS = 512;
-  private static final int THROWS = -777;
+  /** No step makes more calls than these. */
+  private static final int STEP = 8;
   private static final String[] PARTS = {"a", "b", "c", "n", "num", "number", "get", "set", "size",
       "count", "html", "x", "of", "the", "abcdefghijkl"};
   private static final int[] EDGES = {-1, -2, 0, 1, 2, 3, 19, 20, 59, 60, 79, 80, 149, 150, 200, 201,
       Integer.MAX_VALUE, Integer.MIN_VALUE};
 
   private final Random random;
-  private final NameHouse house = new NameHouse();
+  private final House house = new House();
   private final Plain plain = new Plain();
   private final StringBuilder log = new StringBuilder();
   private final int flavour;
-  private int calls = 0;
   private int wrong = 0;
 
   private RandomRunsTest(int seed) {
@@ -27,19 +26,21 @@ public final class RandomRunsTest {
   public static void main(String[] args) {
     for (int seed = 0; seed < RUNS; seed++) {
       RandomRunsTest run = new RandomRunsTest(seed);
-      while (run.calls < CALLS && run.wrong == 0) {
+      while (run.house.callsLeft() >= STEP && run.wrong == 0) {
         run.step();
+      }
+      while (run.house.callsLeft() > 0 && run.wrong == 0) {
+        run.due("hinders()", run.house.hinders(), run.plain.hinders());
       }
       if (run.wrong > 0) {
         System.out.println("RandomRunsTest: run " + seed + "\n" + run.log);
         System.exit(1);
       }
     }
-    System.out.println("RandomRunsTest: " + RUNS + " runs of " + CALLS + " calls as due");
+    System.out.println("RandomRunsTest: " + RUNS + " runs of " + House.CALLS + " calls as due");
   }
 
   private void due(String call, int got, int want) {
-    calls++;
     log.append(call).append(" = ").append(got).append('\n');
     if (got != want) {
       wrong++;
@@ -53,7 +54,7 @@ public final class RandomRunsTest {
 
   /** Mostly a number below the count, at times one that is there for no thing, scope or word. */
   private int number(int what) {
-    return below(30) == 0 ? EDGES[below(EDGES.length)] : below(house.count(what));
+    return below(30) == 0 ? EDGES[below(EDGES.length)] : below(plain.count(what));
   }
 
   private String text() {
@@ -89,13 +90,8 @@ public final class RandomRunsTest {
 
   /** Puts a text on both tapes and answers its length, or at times another number. */
   private int fed(String text) {
-    int[] numbers = new int[5];
     for (int from = 0; from < Math.max(1, text.length()); from += 20) {
-      for (int i = 0; i < 20; i++) {
-        int b = from + i < text.length() ? text.charAt(from + i) & 255 : ' ';
-        numbers[i / 4] = numbers[i / 4] << 8 | b;
-      }
-      feed(numbers);
+      feed(House.numbers(text, from));
     }
     return below(40) == 0 ? EDGES[below(EDGES.length)] : text.length();
   }
@@ -141,12 +137,9 @@ public final class RandomRunsTest {
     }
   }
 
-  /** The name of some thing, read without being held against the model. */
+  /** The name of some thing, told by the model so that it takes no call. */
   private String knownName(String other) {
-    if (house.count(1) == 0) {
-      return other;
-    }
-    return Due.name(house, below(house.count(1)));
+    return plain.count(1) == 0 ? other : plain.nameOf(below(plain.count(1)));
   }
 
   private void scope() {
@@ -158,11 +151,11 @@ public final class RandomRunsTest {
     int one = number(3);
     int other = number(3);
     switch (below(4)) {
-      case 0 -> due("shorts(" + one + ", " + other + ")", house.shorts(one, other) ? 1 : 0,
+      case 0 -> due("shorts(" + one + ", " + other + ")", house.shorts(one, other),
           plain.shorts(one, other) ? 1 : 0);
       case 1 -> {
         if (below(3) == 0) {
-          due("alike(" + one + ", " + other + ")", house.alike(one, other) ? 1 : 0,
+          due("alike(" + one + ", " + other + ")", house.alike(one, other),
               plain.alike(one, other) ? 1 : 0);
         }
       }
@@ -227,34 +220,22 @@ public final class RandomRunsTest {
   }
 
   private void name(int t, int i) {
-    int got;
     int want;
-    try {
-      got = house.name(t, i);
-    } catch (NoSuchElementException e) {
-      got = THROWS;
-    }
     try {
       want = plain.name(t, i);
     } catch (NoSuchElementException e) {
-      want = THROWS;
+      want = House.THROWN;
     }
-    due("name(" + t + ", " + i + ")", got, want);
+    due("name(" + t + ", " + i + ")", house.name(t, i), want);
   }
 
   private void out(int i) {
-    int got;
     int want;
-    try {
-      got = house.out(i);
-    } catch (NoSuchElementException e) {
-      got = THROWS;
-    }
     try {
       want = plain.out(i);
     } catch (NoSuchElementException e) {
-      want = THROWS;
+      want = House.THROWN;
     }
-    due("out(" + i + ")", got, want);
+    due("out(" + i + ")", house.out(i), want);
   }
 }

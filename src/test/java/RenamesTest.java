@@ -1,510 +1,718 @@
 /** Promises 20 to 30: offers, renames made in one turn, counts and trouble. */
 public final class RenamesTest {
-  private static final int LOW = Integer.MIN_VALUE;
-  private static final int HIGH = Integer.MAX_VALUE;
-  private static final Due due = new Due("RenamesTest");
+  private static final Due due =
+      new Due("RenamesTest", "20", "21", "22", "23", "24", "25", "26", "27", "28", "29", "30");
 
   public static void main(String[] args) {
     offer();
-    offerStyles();
-    offerThatIsNone();
     out();
     rename();
     renames();
     none();
     hinders();
-    hindersByUses();
     turn();
     back();
-    backRefused();
     keep();
-    keepAll();
-    fullHouse();
     count();
     trouble();
     due.end();
   }
 
-  private static NameHouse bookOfCounts() {
-    NameHouse x = new NameHouse();
-    Due.word(x, 2, "cnt");
-    Due.word(x, 2, "count");
-    Due.word(x, 2, "size");
-    x.shorts(0, 1);
-    x.alike(1, 2);
-    return x;
+  /** cnt short for count; a name that is offered another, and one that isn't. */
+  private static final House.Calls COUNTS = Made.book("cnt", "count").and(h -> h.shorts(0, 1))
+      .and(Made.named("my_cnt", "other", "_1a", "CNT"));
+
+  /** Renames of things, each by its number and its new name: "0 b 1 a". */
+  private static House.Calls renamed(String all) {
+    return h -> {
+      String[] each = all.split(" ");
+      for (int i = 0; i + 1 < each.length; i += 2) {
+        h.rename(Integer.parseInt(each[i]), each[i + 1]);
+      }
+    };
   }
 
-  private static void checkOffer(String name, String want) {
-    NameHouse x = bookOfCounts();
-    Due.thing(x, 0, 0, "size_size_size_size");
-    int t = Due.thing(x, 0, 0, name);
-    boolean some = !want.isEmpty();
-    due.accepted("20: offer for " + name, x, x.offer(t), some ? want.length() : -2);
-    due.is("20: offer for " + name, Due.out(x), want);
-    due.is("20: its name stays", Due.name(x, t), name);
+  private static House.Calls turned(String all) {
+    return renamed(all).and(h -> h.turn());
   }
+
+  /** The names of all things, with blanks between. */
+  private static String names(House h) {
+    StringBuilder all = new StringBuilder();
+    int things = h.count(1);
+    for (int t = 0; t < things; t++) {
+      all.append(t == 0 ? "" : " ").append(h.name(t));
+    }
+    return all.toString();
+  }
+
+  // ---- 20
 
   private static void offer() {
-    checkOffer("cnt", "size");
-    checkOffer("count", "size");
-    checkOffer("size", "");
-    checkOffer("itemCnt", "itemSize");
-    checkOffer("cntOf", "sizeOf");
-    checkOffer("other", "");
-    NameHouse x = bookOfCounts();
-    Due.thing(x, 0, 0, "cnt");
-    due.is("20: opened, and the head by use", x.offer(0), 5);
-    due.is("20: count", Due.out(x), "count");
-    Due.thing(x, 0, 0, "itemSize");
-    due.is("20: the first in the book of as great ones", x.offer(1), 9);
-    due.is("20: itemCount", Due.out(x), "itemCount");
-    due.is("20: none for it", x.offer(0), 5);
-    Due.thing(x, 0, 0, "count");
-    due.is("20: its name", x.offer(2), -2);
-    due.is("20: out stays", Due.out(x), "count");
-    int[] wrong = {-1, 3, 80, HIGH, LOW};
-    for (int t : wrong) {
-      due.refused("20: thing " + t, x, x.offer(t), 1);
+    due.test("20", "OUT is the OFFER for a THING: how many bytes", RenamesTest::offerBytes);
+    due.test("20", "-2, and OUT stays, if there is none", RenamesTest::offerThereIsNone);
+    due.test("20", "or it is its NAME", RenamesTest::offerIsItsName);
+    due.test("20", "NONE (1)", RenamesTest::offerNone);
+  }
+
+  private static void offers(House.Calls made, int thing, String want) {
+    due.accepted("of " + want, made, h -> h.offer(thing), want.length());
+    House h = House.of(made.and(c -> c.offer(thing)));
+    due.is("OUT", h.out(), want);
+    due.is("its bytes", h.count(5), want.length());
+    due.is("the names stay", names(h), names(House.of(made)));
+    due.is("no rename is told", h.count(4), House.of(made).count(4));
+  }
+
+  private static void offerBytes() {
+    offers(COUNTS, 0, "my_count");
+    offers(COUNTS, 3, "Count");
+    offers(Made.named("_a"), 0, "a");
+    offers(Made.named("_" + "a".repeat(23)), 0, "a".repeat(23));
+    House.Calls most = Made.book("a", "abcdefghijkl").and(h -> h.shorts(0, 1)).and(Made.named("aA"));
+    offers(most, 0, "abcdefghijklAbcdefghijkl");
+    offers(Made.things(79).and(Made.named("z_Z")), 79, "zZ");
+    House.Calls two = COUNTS.and(h -> h.offer(0));
+    offers(two, 3, "Count");
+    offers(COUNTS.and(h -> h.offer(3)), 0, "my_count");
+    offers(COUNTS.and(h -> h.rename(0, "zzz")), 0, "my_count");
+    House.Calls told = two.and(h -> h.rename(0, "x")).and(h -> h.turn());
+    due.is("OUT stays when names change", House.of(told).out(), "my_count");
+  }
+
+  private static void offerStays(House.Calls made, int thing) {
+    due.accepted("of " + thing, made, h -> h.offer(thing), -2);
+    due.same("nothing changes", made.and(h -> h.offer(thing)), made);
+    due.is("OUT is empty", House.of(made.and(h -> h.offer(thing))).count(5), 0);
+    House.Calls shown = made.and(h -> h.thing(0, 0, "zz_Zz")).and(h -> h.offer(h.count(1) - 1));
+    due.same("nothing changes, OUT either", shown.and(h -> h.offer(thing)), shown);
+    due.is("OUT stays", House.of(shown.and(h -> h.offer(thing))).out(), "zzZz");
+  }
+
+  private static void offerThereIsNone() {
+    offerStays(COUNTS, 2);
+    String[] digitFirst = {"_1a", "_1A", "_1aB", "_1Ab"};
+    for (int t = 0; t < digitFirst.length; t++) {
+      offerStays(Made.named(digitFirst), t);
     }
-    due.is("20: out stays when refused", Due.out(x), "count");
-    due.is("20: not refused", x.offer(2), -2);
-    due.is("20: so there is no trouble", x.trouble(), 0);
+    House.Calls tooLong = Made.book("cnt", "count").and(h -> h.shorts(0, 1))
+        .and(Made.named("a".repeat(19) + "_cnt", "a".repeat(20) + "Cnt"));
+    offerStays(tooLong, 0);
+    offerStays(tooLong, 1);
+    House.Calls farTooLong = Made.book("a", "abcdefghijkl").and(h -> h.shorts(0, 1))
+        .and(Made.named("a_a_a_a_a_a_a_a_a_a_a_a"));
+    offerStays(farTooLong, 0);
   }
 
-  private static void offerStyles() {
-    checkOffer("Cnt", "Size");
-    checkOffer("CNT", "Size");
-    checkOffer("CNTOf2Item", "SizeOf2Item");
-    checkOffer("my_cnt_2", "my_size_2");
-    checkOffer("MY_CNT_2", "MY_SIZE_2");
-    checkOffer("cnt1cnt", "size1Size");
-    checkOffer("HTMLPage", "HtmlPage");
-    checkOffer("my_CNT", "mySize");
-    checkOffer("My_cnt", "MySize");
-    checkOffer("_a", "a");
-    checkOffer("_A_", "A");
-    checkOffer("_aB", "aB");
-    checkOffer("a__b", "a_b");
-    checkOffer("a1b", "a1B");
-    checkOffer("a1_b", "a_1_b");
-    checkOffer("A1_B", "A_1_B");
-    checkOffer("a1", "");
-    checkOffer("A", "");
-    checkOffer("AB", "Ab");
-    checkOffer("myItem", "");
-    checkOffer("my_item", "");
-    checkOffer("MY_ITEM", "");
+  private static void offerIsItsName() {
+    offerStays(COUNTS, 1);
+    String[] same = {"a", "A", "aB", "AbCd", "a_b", "A_B", "a1", "my_1_item", "abcdefghijklmnopqrstuvwx"};
+    for (int t = 0; t < same.length; t++) {
+      offerStays(Made.named(same), t);
+    }
+    offerStays(Made.book("count", "cnt").and(h -> h.shorts(1, 0)).and(Made.named("count")), 0);
   }
 
-  private static void offerThatIsNone() {
-    checkOffer("_1a", "");
-    checkOffer("_1Ab", "");
-    checkOffer("abcdefghijklmnopqrst_cnt", "");
-    checkOffer("abcdefghijklmnopqrs_cnt", "abcdefghijklmnopqrs_size");
-    checkOffer("abcdefghijklmnopqrstCnt", "abcdefghijklmnopqrstSize");
-    checkOffer("abcdefghijklmnopqrstuCnt", "");
-    NameHouse x = new NameHouse();
-    Due.word(x, 0, "a");
-    Due.word(x, 0, "abcdefghijkl");
-    x.shorts(0, 1);
-    Due.thing(x, 0, 0, "a_a_a_a_a_a_a_a_a_a_a_a");
-    due.accepted("20: far too long", x, x.offer(0), -2);
-    due.is("20: so there is nothing in out", x.count(5), 0);
-    Due.thing(x, 0, 0, "aA");
-    due.accepted("20: just short enough", x, x.offer(1), 24);
-    due.is("20: its bytes", Due.out(x), "abcdefghijklAbcdefghijkl");
-    due.accepted("20: a longer one leaves it", x, x.offer(0), -2);
-    due.is("20: its bytes stay", Due.out(x), "abcdefghijklAbcdefghijkl");
+  private static void offerNone() {
+    House.Calls shown = COUNTS.and(h -> h.offer(0));
+    for (int thing : Made.outside(4)) {
+      due.refused("thing " + thing, COUNTS, h -> h.offer(thing), 1);
+      due.refused("thing " + thing + ", OUT stays", shown, h -> h.offer(thing), 1);
+    }
+    for (int thing : Made.outside(80)) {
+      due.is("thing " + thing + " of eighty", House.of(Made.things(80)).offer(thing), -1);
+    }
   }
+
+  // ---- 21
 
   private static void out() {
-    NameHouse x = new NameHouse();
-    due.is("21: empty", Due.outThrows(x, 0), true);
-    Due.thing(x, 0, 0, "a_Bc");
-    due.is("20: three bytes", x.offer(0), 3);
-    due.is("21: byte 0", x.out(0), 'a');
-    due.is("21: byte 1", x.out(1), 'B');
-    due.is("21: byte 2", x.out(2), 'c');
-    int[] wrong = {-1, 3, 24, HIGH, LOW};
-    for (int i : wrong) {
-      due.is("21: byte " + i, Due.outThrows(x, i), true);
-    }
-    x.renames();
-    Due.thing(x, 0, 0, "__long__NAME");
-    x.renames();
-    due.is("21: renames() leaves it", Due.out(x), "aBc");
-    due.is("21: leaves trouble", x.trouble(), 0);
+    due.test("21", "Byte i of OUT", RenamesTest::outBytes);
+    due.test("21", "NoSuchElementException if there is none such", RenamesTest::outThrows);
   }
+
+  private static void outBytes() {
+    String most = "abcdefghijklAbcdefghijkl";
+    House.Calls made = Made.book("a", "abcdefghijkl").and(h -> h.shorts(0, 1)).and(Made.named("aA"))
+        .and(h -> h.offer(0));
+    for (int i = 0; i < 24; i++) {
+      int at = i;
+      due.asked("byte " + i, made, h -> h.out(at), most.charAt(i));
+    }
+    due.asked("the only byte", Made.named("_z").and(h -> h.offer(0)), h -> h.out(0), 'z');
+    due.asked("a digit", Made.named("_z9").and(h -> h.offer(0)), h -> h.out(2), '9');
+    due.asked("a line", Made.named("_z9").and(h -> h.offer(0)), h -> h.out(1), '_');
+    due.asked("renames() leaves it", made.and(h -> h.thing(0, 0, "__b")).and(h -> h.renames()),
+        h -> h.out(23), 'l');
+  }
+
+  private static void outThrows() {
+    due.asked("ahead of an offer", COUNTS, h -> h.out(0), House.THROWN);
+    due.asked("behind renames() alone", COUNTS.and(h -> h.renames()), h -> h.out(0), House.THROWN);
+    House.Calls three = Made.named("a_Bc").and(h -> h.offer(0));
+    for (int i : Made.outside(3)) {
+      due.asked("byte " + i, three, h -> h.out(i), House.THROWN);
+    }
+    House.Calls shorter = COUNTS.and(h -> h.offer(0)).and(h -> h.offer(3));
+    due.asked("what a longer one left", shorter, h -> h.out(5), House.THROWN);
+    House.Calls most = Made.book("a", "abcdefghijkl").and(h -> h.shorts(0, 1)).and(Made.named("aA"))
+        .and(h -> h.offer(0));
+    for (int i : Made.outside(24)) {
+      due.asked("byte " + i + " of 24", most, h -> h.out(i), House.THROWN);
+    }
+  }
+
+  // ---- 22
 
   private static void rename() {
-    NameHouse x = new NameHouse();
-    Due.thing(x, 0, 0, "a");
-    Due.thing(x, 0, 0, "b");
-    due.accepted("22: one", x, Due.rename(x, 1, "c"), 1);
-    due.is("22: no name changes yet", Due.name(x, 1), "b");
-    due.accepted("22: in place of it", x, Due.rename(x, 1, "dd"), 1);
-    due.accepted("22: two", x, Due.rename(x, 0, "a"), 2);
-    due.is("22: counted", x.count(4), 2);
-    int[] wrong = {-1, 2, 80, HIGH, LOW};
-    for (int t : wrong) {
-      Due.feed(x, "e");
-      due.refused("22: thing " + t, x, x.rename(t, 1), 1);
-      due.refused("22: 1 comes ahead of 2", x, x.rename(t, -1), 1);
-    }
-    due.is("22: the tape is left", x.count(6), 100);
-    due.refused("22: n above the tape", x, x.rename(0, 101), 2);
-    due.refused("22: n below 0", x, x.rename(0, -1), 2);
-    due.is("22: the tape is left by n", x.count(6), 100);
-    due.refused("22: no bytes", x, x.rename(0, 0), 2);
-    due.is("22: the tape is empty", x.count(6), 0);
-    due.refused("22: no name", x, Due.rename(x, 0, "0a"), 2);
-    due.is("22: two still", x.count(4), 2);
-    due.accepted("26: made", x, x.turn(), 2);
-    due.is("26: to the latest name", Due.name(x, 1), "dd");
-    due.is("26: to its own", Due.name(x, 0), "a");
-    due.is("27: both are taken back", x.back(), 2);
-    due.is("27: b", Due.name(x, 1), "b");
+    due.test("22", "A RENAME of a THING to a NAME", RenamesTest::renameTold);
+    due.test("22", "(in place of the one told of it)", RenamesTest::renameInPlace);
+    due.test("22", "how many there are", RenamesTest::renameCount);
+    due.test("22", "NONE: 1", RenamesTest::renameNoThing);
+    due.test("22", "; 2", RenamesTest::renameNoName);
   }
+
+  private static void renameTold() {
+    House h = House.of(Made.named("a", "b").and(renamed("1 abcdefghijklmnopqrstuvwx")));
+    due.is("no name changes yet", names(h), "a b");
+    due.is("made", h.turn(), 1);
+    due.is("then", names(h), "a abcdefghijklmnopqrstuvwx");
+    House own = House.of(Made.named("a", "b").and(turned("0 a")));
+    due.is("to its own name", names(own), "a b");
+    due.accepted("to its own name", Made.named("a"), c -> c.rename(0, "a"), 1);
+    due.accepted("to another's name", Made.named("a", "b"), c -> c.rename(0, "b"), 1);
+    due.accepted("of the last", Made.things(80), c -> c.rename(79, "n0"), 1);
+  }
+
+  private static void renameInPlace() {
+    House.Calls twice = Made.named("a", "b").and(renamed("0 longer_name 0 c"));
+    due.is("one is there", House.of(twice).count(4), 1);
+    due.is("the latest is made", names(House.of(twice.and(h -> h.turn()))), "c b");
+    due.same("as if told once", twice, Made.named("a", "b").and(renamed("0 c")));
+    House.Calls offered = COUNTS.and(h -> h.renames()).and(renamed("0 z"));
+    due.is("in place of an offer", names(House.of(offered.and(h -> h.turn()))), "z other _1a Count");
+  }
+
+  private static void renameCount() {
+    House h = House.of(Made.named("a", "b", "c"));
+    due.is("one", h.rename(2, "x"), 1);
+    due.is("two", h.rename(0, "y"), 2);
+    due.is("in place", h.rename(2, "z"), 2);
+    due.is("three", h.rename(1, "w"), 3);
+    due.is("counted", h.count(4), 3);
+    House all = House.of(Made.things(80));
+    for (int t = 79; t >= 0; t--) {
+      due.is("of all", all.rename(t, "x"), 80 - t);
+    }
+  }
+
+  private static void renameNoThing() {
+    House.Calls fed = Made.named("a", "b").and(renamed("0 c")).and(Made.tape(40));
+    for (int thing : Made.outside(2)) {
+      due.refused("thing " + thing, fed, h -> h.rename(thing, 3), 1);
+    }
+    due.refused("ahead of a wrong n", fed, h -> h.rename(2, 41), 1);
+    due.refused("ahead of no name", fed, h -> h.rename(2, 0), 1);
+    for (int thing : Made.outside(80)) {
+      due.is("thing " + thing + " of eighty",
+          House.of(Made.things(80).and(Made.tape(20))).rename(thing, 3), -1);
+    }
+  }
+
+  private static void renameNoName() {
+    House.Calls told = Made.named("a", "b").and(renamed("0 c"));
+    House.Calls fed = told.and(Made.tape(20));
+    int[] wrong = {-1, -2, Made.LEAST, 21, 200, 201, Made.GREATEST};
+    for (int n : wrong) {
+      due.refused("by " + n, fed, h -> h.rename(0, n), 2);
+    }
+    String[] none = {"", "_", "1", "1a", "_1", "a b", "a-", "\u00e9a", "a".repeat(25), "a".repeat(200)};
+    for (String text : none) {
+      due.refused("'" + text + "', in place", told, h -> h.rename(0, text), 2);
+      due.refused("'" + text + "', anew", told, h -> h.rename(1, text), 2);
+    }
+  }
+
+  // ---- 23
 
   private static void renames() {
-    NameHouse x = bookOfCounts();
-    due.is("23: no things", x.renames(), 0);
-    Due.thing(x, 0, 0, "size_size");
-    Due.thing(x, 0, 0, "cnt");
-    Due.thing(x, 0, 0, "item");
-    Due.thing(x, 0, 0, "item_COUNT");
-    Due.thing(x, 0, 0, "_1a");
-    // count and size are used twice each, so the first in the book is head of both.
-    Due.rename(x, 2, "told");
-    x.scope(9);
-    due.is("23: in place of those told", x.renames(), 3);
-    due.is("23: leaves trouble", x.trouble(), 1);
-    due.is("23: counted", x.count(4), 3);
-    due.is("26: made", x.turn(), 3);
-    String[] names = {"count_count", "count", "item", "itemCount", "_1a"};
-    for (int t = 0; t < names.length; t++) {
-      due.is("23: thing " + t, Due.name(x, t), names[t]);
-    }
-    due.is("23: no more to offer", x.renames(), 0);
+    due.test("23", "RENAMES of all THINGS for which there is an OFFER that isn't its NAME",
+        RenamesTest::renamesOfOffers);
+    due.test("23", "(in place of those told)", RenamesTest::renamesInPlace);
+    due.test("23", "how many", RenamesTest::renamesCount);
   }
+
+  private static void renamesOfOffers() {
+    due.same("as if told one by one", COUNTS.and(h -> h.renames()), COUNTS.and(renamed("0 my_count 3 Count")));
+    House h = House.of(COUNTS.and(c -> c.renames()));
+    due.is("no name changes yet", names(h), "my_cnt other _1a CNT");
+    h.turn();
+    due.is("then", names(h), "my_count other _1a Count");
+    due.is("and none is offered any more", h.renames(), 0);
+    House.Calls heads = Made.book("big", "large").and(c -> c.alike(0, 1))
+        .and(Made.named("big", "bigBox", "large", "my_large"));
+    House all = House.of(heads.and(c -> c.renames()));
+    due.is("by the names as they are", all.turn(), -1);
+    due.is("two would be big", all.hinders(), 2);
+    due.is("what can stays", all.keep(), 1);
+    all.turn();
+    due.is("made", names(all), "big bigBox large my_big");
+  }
+
+  private static void renamesInPlace() {
+    House.Calls told = COUNTS.and(renamed("0 x 1 y 2 z"));
+    due.same("all that were told go", told.and(h -> h.renames()), COUNTS.and(h -> h.renames()));
+    due.is("made", names(House.of(told.and(h -> h.renames()).and(h -> h.turn()))),
+        "my_count other _1a Count");
+    House.Calls nothing = Made.named("a", "b").and(renamed("0 x"));
+    due.same("also for no offers", nothing.and(h -> h.renames()), Made.named("a", "b"));
+    due.same("twice", COUNTS.and(h -> h.renames()).and(h -> h.renames()), COUNTS.and(h -> h.renames()));
+  }
+
+  private static void renamesCount() {
+    due.is("two", House.of(COUNTS).renames(), 2);
+    due.is("though one was told", House.of(COUNTS.and(renamed("1 y"))).renames(), 2);
+    due.is("no things", House.of(Made.words(2)).renames(), 0);
+    due.is("no offers", House.of(Made.named("a", "_1a")).renames(), 0);
+    House.Calls all = h -> {
+      for (int t = 0; t < 80; t++) {
+        h.thing(0, 0, "_n" + (char) ('a' + t % 26) + (char) ('a' + t / 26));
+      }
+    };
+    due.is("eighty", House.of(all).renames(), 80);
+    due.is("eighty counted", House.of(all.and(h -> h.renames())).count(4), 80);
+    due.leavesTrouble("renames", COUNTS, h -> h.renames());
+  }
+
+  // ---- 24
 
   private static void none() {
-    NameHouse x = new NameHouse();
-    due.is("24: none", x.none(), 0);
-    Due.thing(x, 0, 0, "a");
-    Due.thing(x, 0, 0, "b");
-    Due.rename(x, 0, "c");
-    Due.rename(x, 1, "d");
-    x.scope(9);
-    due.is("24: two", x.none(), 2);
-    due.is("24: leaves trouble", x.trouble(), 1);
-    due.is("24: none now", x.none(), 0);
-    due.is("24: none is made", x.turn(), 0);
-    due.is("24: the name stays", Due.name(x, 0), "a");
-    due.is("24: told anew", Due.rename(x, 1, "e"), 1);
+    due.test("24", "No RENAMES", RenamesTest::noRenames);
+    due.test("24", "how many there were", RenamesTest::noneCount);
   }
+
+  private static void noRenames() {
+    House.Calls told = Made.named("a", "b").and(renamed("0 x 1 y"));
+    due.same("as if none were told", told.and(h -> h.none()), Made.named("a", "b"));
+    due.same("none twice", told.and(h -> h.none()).and(h -> h.none()), Made.named("a", "b"));
+    due.same("told anew", told.and(h -> h.none()).and(renamed("0 z")), Made.named("a", "b").and(renamed("0 z")));
+    due.same("offers", COUNTS.and(h -> h.renames()).and(h -> h.none()), COUNTS);
+    due.leavesTrouble("none", told, h -> h.none());
+    House.Calls unsafe = Made.named("a", "b").and(renamed("0 b")).and(h -> h.none());
+    due.asked("nothing hinders", unsafe, h -> h.hinders(), -2);
+  }
+
+  private static void noneCount() {
+    due.is("none", House.of(Made.named("a")).none(), 0);
+    due.is("one", House.of(Made.named("a").and(renamed("0 x 0 y"))).none(), 1);
+    due.is("two", House.of(Made.named("a", "b").and(renamed("0 x 1 x"))).none(), 2);
+    due.is("none any more", House.of(Made.named("a").and(renamed("0 x")).and(h -> h.none())).none(), 0);
+    due.is("none behind a turn", House.of(Made.named("a").and(turned("0 x"))).none(), 0);
+  }
+
+  // ---- 25
 
   private static void hinders() {
-    NameHouse x = new NameHouse();
-    due.is("25: nothing", x.hinders(), -2);
-    String[] names = {"a", "b", "c", "d"};
-    for (String name : names) {
-      Due.thing(x, 0, 0, name);
-    }
-    x.scope(0);
-    Due.thing(x, 1, 0, "e");
-    due.is("25: no renames", x.hinders(), -2);
-    Due.rename(x, 4, "a");
-    due.is("25: another scope's name", x.hinders(), -2);
-    Due.rename(x, 0, "d");
-    due.is("25: the one with the greater number", x.hinders(), 3);
-    Due.rename(x, 2, "b");
-    due.is("25: the first such", x.hinders(), 2);
-    Due.rename(x, 1, "z");
-    due.is("25: not by a name that goes", x.hinders(), 3);
-    Due.rename(x, 3, "z");
-    due.is("25: two renamed alike", x.hinders(), 3);
-    Due.rename(x, 3, "a");
-    due.is("25: round about", x.hinders(), -2);
-    x.scope(9);
-    x.hinders();
-    due.is("25: leaves trouble", x.trouble(), 1);
-    due.is("25: leaves renames", x.count(4), 5);
+    due.test("25", "Whether the RENAMES are SAFE: -2", RenamesTest::hindersNothing);
+    due.test("25", "else what HINDERS: a THING's number", RenamesTest::hindersThing);
+    due.test("25", "or 1,000 and a USE's", RenamesTest::hindersUse);
   }
 
-  private static void hindersByUses() {
-    NameHouse x = new NameHouse();
-    x.scope(0);
-    x.scope(1);
-    Due.thing(x, 0, 0, "a");
-    Due.thing(x, 1, 0, "b");
-    Due.thing(x, 2, 0, "c");
-    Due.use(x, 0, "a");
-    Due.use(x, 2, "b");
-    Due.use(x, 2, "a");
-    Due.use(x, 1, "b");
-    Due.rename(x, 2, "b");
-    due.is("25: use 1 is caught", x.hinders(), 1001);
-    Due.rename(x, 2, "a");
-    due.is("25: use 2 is caught", x.hinders(), 1002);
-    Due.rename(x, 1, "d");
-    Due.rename(x, 2, "b");
-    due.is("25: the use goes along with its thing", x.hinders(), -2);
-    Due.rename(x, 0, "b");
-    due.is("25: use 2 means another then", x.hinders(), 1002);
-    Due.rename(x, 0, "d");
-    due.is("25: likewise by the one between", x.hinders(), 1002);
-    Due.thing(x, 0, 0, "e");
-    Due.rename(x, 3, "d");
-    due.is("25: a thing comes ahead of a use", x.hinders(), 3);
-    due.refused("26: not safe", x, x.turn(), 5);
-    due.is("26: renames stay", x.count(4), 4);
-    due.is("26: names stay", Due.name(x, 0), "a");
+  private static void hindered(House.Calls made, String renames, int by) {
+    due.asked("by " + renames, made.and(renamed(renames)), h -> h.hinders(), by);
   }
+
+  private static void hindersNothing() {
+    hindered(Made.NEW, "", -2);
+    hindered(Made.named("a", "b"), "", -2);
+    hindered(Made.named("a", "b"), "0 x 1 y", -2);
+    hindered(Made.named("a", "b"), "0 b 1 a", -2);
+    hindered(Made.uses(3), "0 x", -2);
+    due.is("of eighty", House.of(Made.things(80).and(renamed("0 n80"))).hinders(), -2);
+  }
+
+  private static void hindersThing() {
+    hindered(Made.named("a", "b"), "0 b", 1);
+    hindered(Made.named("a", "b"), "1 a", 1);
+    hindered(Made.named("a", "b", "c"), "2 a", 2);
+    hindered(Made.named("a", "b", "c"), "0 x 1 x 2 x", 1);
+    hindered(Made.named("a", "b", "c").and(h -> h.use(0, "a")), "0 c", 2);
+    due.is("the last", House.of(Made.things(80).and(renamed("79 n0"))).hinders(), 79);
+    due.is("by the last", House.of(Made.things(80).and(renamed("0 n79"))).hinders(), 79);
+  }
+
+  private static void hindersUse() {
+    House.Calls nest = Made.deep(2).and(h -> {
+      h.thing(0, 0, "a");
+      h.thing(1, 0, "b");
+      h.use(0, "a");
+      h.use(1, "a");
+      h.use(1, "b");
+    });
+    hindered(nest, "1 a", 1001);
+    hindered(nest, "0 b", 1001);
+    hindered(nest, "0 b 1 a", -2);
+    hindered(nest.and(h -> h.thing(1, 0, "c")), "1 a 2 a", 2);
+    House.Calls first = Made.deep(2).and(h -> {
+      h.thing(0, 0, "a");
+      h.use(1, "a");
+      h.thing(1, 0, "b");
+    });
+    hindered(first, "1 a", 1000);
+    House.Calls last = Made.deep(2).and(Made.uses(149)).and(h -> {
+      h.use(1, "a");
+      h.thing(1, 0, "b");
+    });
+    due.is("the last", House.of(last.and(renamed("1 a"))).hinders(), 1149);
+  }
+
+  // ---- 26
 
   private static void turn() {
-    NameHouse x = new NameHouse();
-    due.accepted("26: none", x, x.turn(), 0);
-    x.scope(0);
-    Due.thing(x, 0, 0, "a");
-    Due.thing(x, 0, 1, "b");
-    Due.thing(x, 1, 2, "c");
-    Due.use(x, 1, "a");
-    Due.use(x, 0, "b");
-    Due.rename(x, 0, "b");
-    due.refused("26: b is there", x, x.turn(), 5);
-    due.is("26: nothing is made", Due.name(x, 0), "a");
-    Due.rename(x, 1, "a");
-    due.accepted("26: names changed over", x, x.turn(), 2);
-    due.is("26: no renames then", x.count(4), 0);
-    due.is("26: thing 0", Due.name(x, 0), "b");
-    due.is("26: thing 1", Due.name(x, 1), "a");
-    due.is("26: use 0 means what it meant", x.means(0, 1), 0);
-    due.is("26: use 1 means what it meant", x.means(1, 1), 1);
-    due.is("26: found by the new name", Due.find(x, 1, "a"), 1);
-    due.is("26: parts of the new name", x.about(0, 3), 1);
-    due.accepted("26: none any more", x, x.turn(), 0);
-    due.is("26: names stay", Due.name(x, 0), "b");
+    due.test("26", "All RENAMES are made", RenamesTest::allAreMade);
+    due.test("26", "(there are none then)", RenamesTest::noneThen);
+    due.test("26", "how many", RenamesTest::turnCount);
+    due.test("26", "NONE (5: nothing is made)", RenamesTest::nothingIsMade);
   }
+
+  private static void allAreMade() {
+    due.is("one", names(House.of(Made.named("a", "b").and(turned("0 x")))), "x b");
+    due.is("all", names(House.of(Made.named("a", "b").and(turned("0 x 1 y")))), "x y");
+    due.is("at once", names(House.of(Made.named("a", "b").and(turned("0 b 1 a")))), "b a");
+    due.is("in a ring", names(House.of(Made.named("a", "b", "c").and(turned("0 b 1 c 2 a")))), "b c a");
+    House.Calls used = Made.deep(2).and(Made.named("a", "b")).and(h -> {
+      h.use(0, "a");
+      h.use(1, "b");
+    });
+    House h = House.of(used.and(turned("0 b 1 a")));
+    due.is("a use means what it meant", h.means(0, 1), 0);
+    due.is("the other use too", h.means(1, 1), 1);
+    due.is("found by the new name", h.find(1, "a"), 1);
+    due.is("a new use by the new name", h.use(0, "b"), 2);
+    due.is("which it means", h.means(2, 1), 0);
+    House all = House.of(Made.things(80).and(c -> {
+      for (int t = 0; t < 80; t++) {
+        c.rename(t, "n" + (t + 1) % 80);
+      }
+    }));
+    due.is("eighty in a ring", all.turn(), 80);
+    due.is("the first", all.name(0), "n1");
+    due.is("the last", all.name(79), "n0");
+  }
+
+  private static void noneThen() {
+    House h = House.of(Made.named("a", "b").and(turned("0 x 1 y")));
+    due.is("counted", h.count(4), 0);
+    due.is("none", h.none(), 0);
+    due.is("the next turn makes none", h.turn(), 0);
+    due.is("names stay", names(h), "x y");
+    due.is("told anew", h.rename(1, "z"), 1);
+  }
+
+  private static void turnCount() {
+    due.accepted("none", Made.NEW, h -> h.turn(), 0);
+    due.accepted("none of some", Made.named("a"), h -> h.turn(), 0);
+    due.accepted("one", Made.named("a", "b").and(renamed("0 x 0 y")), h -> h.turn(), 1);
+    due.accepted("two", Made.named("a", "b").and(renamed("0 x 1 y")), h -> h.turn(), 2);
+    due.accepted("to its own name", Made.named("a", "b").and(renamed("0 a")), h -> h.turn(), 1);
+    due.accepted("offers", COUNTS.and(h -> h.renames()), h -> h.turn(), 2);
+  }
+
+  private static void nothingIsMade() {
+    House.Calls doubled = Made.named("a", "b", "c").and(renamed("0 x 1 y 2 y"));
+    due.refused("two of one name", doubled, h -> h.turn(), 5);
+    due.is("names", names(House.of(doubled.and(h -> h.turn()))), "a b c");
+    due.is("renames are told still", House.of(doubled.and(h -> h.turn())).count(4), 3);
+    House.Calls strayed = Made.deep(2).and(h -> {
+      h.thing(0, 0, "a");
+      h.thing(1, 0, "b");
+      h.use(1, "a");
+    }).and(renamed("1 a"));
+    due.refused("a use that would stray", strayed, h -> h.turn(), 5);
+    House.Calls ahead = Made.named("a", "b").and(turned("0 x")).and(renamed("0 b"));
+    due.refused("the turn ahead can be taken back still", ahead, h -> h.turn(), 5);
+    due.is("and is", House.of(ahead.and(h -> h.turn())).back(), 1);
+    due.refused("eighty", Made.things(80).and(renamed("79 n0")), h -> h.turn(), 5);
+  }
+
+  // ---- 27
 
   private static void back() {
-    NameHouse x = new NameHouse();
-    due.refused("27: no turn yet", x, x.back(), 6);
-    Due.thing(x, 0, 0, "a");
-    Due.thing(x, 0, 0, "b");
-    Due.rename(x, 0, "longer_name");
-    x.turn();
-    x.scope(0);
-    Due.word(x, 0, "w");
-    Due.rename(x, 1, "c");
-    Due.find(x, 0, "b");
-    due.refused("4: a thing that doesn't come", x, Due.thing(x, 0, 0, "b"), 4);
-    due.refused("5: a use that doesn't come", x, Due.use(x, 0, "a"), 6);
-    due.is("22: b is there", Due.rename(x, 0, "c"), 2);
-    due.refused("26: a turn that is refused", x, x.turn(), 5);
-    due.accepted("27: one name", x, x.back(), 1);
-    due.is("27: its name", Due.name(x, 0), "a");
-    due.is("27: renames told stay", x.count(4), 2);
-    due.refused("27: not twice", x, x.back(), 6);
-    x.none();
-    due.accepted("26: an empty turn", x, x.turn(), 0);
-    due.accepted("27: is taken back", x, x.back(), 0);
-    due.refused("27: once", x, x.back(), 6);
+    due.test("27", "The latest turn() that isn't taken back yet is", RenamesTest::latestTurn);
+    due.test("27", "if no THING or USE came since", RenamesTest::nothingCame);
+    due.test("27", "and no other turn()", RenamesTest::noOtherTurn);
+    due.test("27", "how many NAMES", RenamesTest::backCount);
+    due.test("27", "NONE (6)", RenamesTest::backNone);
   }
 
-  private static void backRefused() {
-    NameHouse x = new NameHouse();
-    Due.thing(x, 0, 0, "a");
-    Due.rename(x, 0, "b");
-    x.turn();
-    Due.thing(x, 0, 0, "c");
-    due.refused("27: a thing came", x, x.back(), 6);
-    Due.rename(x, 0, "d");
-    x.turn();
-    Due.use(x, 0, "d");
-    due.refused("27: a use came", x, x.back(), 6);
-    due.is("27: the name stays", Due.name(x, 0), "d");
-    Due.rename(x, 0, "e");
-    x.turn();
-    Due.rename(x, 1, "f");
-    x.turn();
-    due.accepted("27: the latest", x, x.back(), 1);
-    due.is("27: c again", Due.name(x, 1), "c");
-    due.refused("27: not the one ahead of it", x, x.back(), 6);
-    due.is("27: e still", Due.name(x, 0), "e");
-    Due.rename(x, 0, "g");
-    x.turn();
-    x.turn();
-    due.accepted("27: the empty one", x, x.back(), 0);
-    due.refused("27: and no other", x, x.back(), 6);
-    due.is("27: g still", Due.name(x, 0), "g");
+  private static final House.Calls AB = Made.deep(2).and(Made.named("a", "b"));
+
+  private static void latestTurn() {
+    House.Calls turned = AB.and(turned("0 longer_name 1 a"));
+    due.accepted("taken back", turned, h -> h.back(), 2);
+    due.same("as it was", turned.and(h -> h.back()), AB);
+    due.is("names", names(House.of(turned.and(h -> h.back()))), "a b");
+    House.Calls used = AB.and(h -> h.use(1, "a"));
+    due.same("with uses", used.and(turned("0 b 1 a")).and(h -> h.back()), used);
+    House.Calls told = turned.and(renamed("1 z"));
+    due.same("renames told since stay", told.and(h -> h.back()), AB.and(renamed("1 z")));
+    House.Calls anew = turned.and(h -> h.back()).and(turned("0 y"));
+    due.accepted("the next turn", anew, h -> h.back(), 1);
+    due.is("its names", names(House.of(anew.and(h -> h.back()))), "a b");
+    House.Calls all = Made.things(80).and(h -> {
+      for (int t = 0; t < 80; t++) {
+        h.rename(t, "m" + t);
+      }
+      h.turn();
+    });
+    House h = House.of(all);
+    due.is("of eighty", h.back(), 80);
+    due.is("the first", h.name(0), "n0");
+    due.is("the last", h.name(79), "n79");
   }
+
+  private static void nothingCame() {
+    House.Calls turned = AB.and(turned("0 x"));
+    due.refused("a thing", turned.and(h -> h.thing(0, 0, "z")), h -> h.back(), 6);
+    due.refused("a thing of another scope", turned.and(h -> h.thing(1, 0, "z")), h -> h.back(), 6);
+    due.refused("a use", turned.and(h -> h.use(0, "x")), h -> h.back(), 6);
+    due.refused("a use of another thing", turned.and(h -> h.use(1, "b")), h -> h.back(), 6);
+    House.Calls[] others = {h -> h.thing(0, 0, "b"), h -> h.use(0, "a"), h -> h.thing(0, 0, "1"),
+        h -> h.thing(9, 0, 0), h -> h.use(0, "1"), h -> h.use(9, 0), h -> h.find(0, "x"),
+        h -> h.scope(0), h -> h.word(0, "x"), h -> h.word(0, "X"), h -> h.rename(1, "y"),
+        h -> h.renames(), h -> h.none(), h -> h.keep(), h -> h.hinders(), h -> h.offer(0),
+        h -> h.shorts(0, -1), h -> h.alike(0, 0), h -> h.feed("abc")};
+    for (int i = 0; i < others.length; i++) {
+      House.Calls other = others[i];
+      due.accepted("not by call " + i, turned.and(other), h -> h.back(), 1);
+      due.is("names behind call " + i, names(House.of(turned.and(other).and(h -> h.back()))), "a b");
+    }
+    House.Calls full = Made.things(80).and(turned("0 x")).and(h -> h.thing(0, 0, "z"));
+    due.accepted("a thing that found no room", full, h -> h.back(), 1);
+    House.Calls uses = Made.uses(150).and(turned("0 x")).and(h -> h.use(0, "x"));
+    due.accepted("a use that found no room", uses, h -> h.back(), 1);
+  }
+
+  private static void noOtherTurn() {
+    House.Calls two = AB.and(turned("0 x")).and(turned("1 y"));
+    due.accepted("the latest", two, h -> h.back(), 1);
+    due.is("its names", names(House.of(two.and(h -> h.back()))), "x b");
+    due.refused("not the one ahead", two.and(h -> h.back()), h -> h.back(), 6);
+    House.Calls same = AB.and(turned("0 x")).and(turned("0 y"));
+    due.is("of one thing", names(House.of(same.and(h -> h.back()))), "x b");
+    due.refused("not the one ahead of that", same.and(h -> h.back()), h -> h.back(), 6);
+    House.Calls empty = AB.and(turned("0 x")).and(h -> h.turn());
+    due.accepted("one of no renames", empty, h -> h.back(), 0);
+    due.is("changes nothing", names(House.of(empty.and(h -> h.back()))), "x b");
+    due.refused("and stands in the way", empty.and(h -> h.back()), h -> h.back(), 6);
+    House.Calls refused = AB.and(turned("0 x")).and(turned("0 b"));
+    due.accepted("a refused turn() is none", refused, h -> h.back(), 1);
+  }
+
+  private static void backCount() {
+    due.accepted("none", AB.and(h -> h.turn()), h -> h.back(), 0);
+    due.accepted("one", AB.and(turned("0 x")), h -> h.back(), 1);
+    due.accepted("two", AB.and(turned("0 x 1 y")), h -> h.back(), 2);
+    due.accepted("its own name", AB.and(turned("0 a 1 y")), h -> h.back(), 2);
+    due.accepted("offers", COUNTS.and(h -> h.renames()).and(h -> h.turn()), h -> h.back(), 2);
+    due.accepted("one behind a turn of two", AB.and(turned("0 x 1 y")).and(turned("0 z")),
+        h -> h.back(), 1);
+  }
+
+  private static void backNone() {
+    due.refused("no turn yet", AB, h -> h.back(), 6);
+    due.refused("in a new house", Made.NEW, h -> h.back(), 6);
+    due.refused("a refused turn alone", AB.and(turned("0 b")), h -> h.back(), 6);
+    due.refused("taken back already", AB.and(turned("0 x")).and(h -> h.back()), h -> h.back(), 6);
+    due.refused("renames only told", AB.and(renamed("0 x")), h -> h.back(), 6);
+    House.Calls came = AB.and(turned("0 x")).and(h -> h.thing(0, 0, "z"));
+    due.refused("twice", came.and(h -> h.back()), h -> h.back(), 6);
+  }
+
+  // ---- 28
 
   private static void keep() {
-    NameHouse x = new NameHouse();
-    due.is("28: none", x.keep(), 0);
-    String[] names = {"a", "b", "c", "d"};
-    for (String name : names) {
-      Due.thing(x, 0, 0, name);
-    }
-    Due.rename(x, 0, "b");
-    Due.rename(x, 1, "x");
-    Due.rename(x, 2, "x");
-    Due.rename(x, 3, "c");
-    x.scope(9);
-    due.is("28: in order, each by those ahead", x.keep(), 1);
-    due.is("28: leaves trouble", x.trouble(), 1);
-    due.is("28: counted", x.count(4), 1);
-    due.is("28: no name changes", Due.name(x, 1), "b");
-    due.accepted("26: it is made", x, x.turn(), 1);
-    due.is("28: x", Due.name(x, 1), "x");
-    Due.rename(x, 0, "y");
-    Due.rename(x, 2, "a");
-    Due.rename(x, 3, "c");
-    due.is("28: a name that has gone is free", x.keep(), 3);
-    due.is("28: all is safe", x.hinders(), -2);
-    x.scope(0);
-    Due.thing(x, 1, 0, "q");
-    Due.use(x, 1, "a");
-    due.refused("5: its name isn't made yet", x, Due.use(x, 1, "y"), 6);
-    Due.rename(x, 4, "y");
-    due.is("28: a use would stray", x.keep(), 3);
-    due.is("26: three are made", x.turn(), 3);
-    due.is("28: q stays", Due.name(x, 4), "q");
+    due.test("28", "RENAMES are taken by THINGS in order", RenamesTest::keepInOrder);
+    due.test("28", "each if by it and those taken ahead all is SAFE", RenamesTest::keepSafe);
+    due.test("28", "these stay, others go", RenamesTest::keepStays);
+    due.test("28", "how many stay", RenamesTest::keepCount);
   }
 
-  private static void keepAll() {
-    NameHouse x = new NameHouse();
-    for (int i = 0; i < 80; i++) {
-      Due.thing(x, 0, 0, "n" + i);
-    }
-    for (int i = 0; i < 80; i++) {
-      Due.rename(x, i, "n" + (i + 79));
-    }
-    // Alone thing 0 would take the name that thing 79 has; the others' new names are free.
-    due.is("25: all at once they are safe", x.hinders(), -2);
-    due.is("28: all but the first", x.keep(), 79);
-    due.is("26: made", x.turn(), 79);
-    due.is("28: the first", Due.name(x, 0), "n0");
-    due.is("28: the last", Due.name(x, 79), "n158");
+  /** Of the renames told the ones that keep leaves, told by what a turn makes of them. */
+  private static void keeps(House.Calls made, String told, String stay) {
+    House.Calls kept = made.and(renamed(told)).and(h -> h.keep());
+    due.same("of " + told, kept, made.and(renamed(stay)));
+    due.asked("safe is what stays of " + told, kept, h -> h.hinders(), -2);
   }
 
-  /** Each row of the house is full but the uses, for which 512 calls don't do. */
-  private static void fullHouse() {
-    NameHouse x = new NameHouse();
-    for (int s = 1; s < 20; s++) {
-      x.scope(s - 1);
-    }
-    for (int t = 0; t < 80; t++) {
-      Due.thing(x, t / 4, t % 3, "cnt" + (char) ('A' + t % 4));
-    }
-    for (int u = 0; u < 80; u++) {
-      Due.use(x, 19, "cnt" + (char) ('A' + u % 4));
-    }
-    Due.word(x, 2, "cnt");
-    Due.word(x, 2, "count");
-    x.shorts(0, 1);
-    due.is("6: the last thing's uses", x.about(79, 6), 20);
-    due.is("6: those of the one around", x.about(75, 6), 0);
-    due.is("23: of all", x.renames(), 80);
-    due.is("25: safe", x.hinders(), -2);
-    due.is("28: one by one too", x.keep(), 80);
-    Due.rename(x, 79, "countA");
-    due.is("25: two of the last scope", x.hinders(), 79);
-    due.is("28: all but the last", x.keep(), 79);
-    due.is("26: made", x.turn(), 79);
-    due.is("15: the way of each kind", x.way(0), 0x20);
-    due.is("16: none is odd", x.odd(2), 0);
-    due.is("13: used", x.told(1, 2), 80);
-    due.is("19: the last letters are strange", x.strange(), 80);
-    due.is("27: taken back", x.back(), 79);
-    due.is("27: a name", Due.name(x, 0), "cntA");
+  private static void keepInOrder() {
+    keeps(Made.named("a", "b", "c"), "0 x 1 x 2 x", "0 x");
+    keeps(Made.named("a", "b", "c"), "2 x 1 x 0 x", "0 x");
+    keeps(Made.named("a", "b", "c"), "2 x 1 x", "1 x");
+    keeps(Made.named("a", "b", "c"), "0 b 1 c 2 z", "2 z");
+    keeps(Made.named("a", "b", "c"), "0 z 1 a 2 b", "0 z 1 a 2 b");
+    keeps(Made.named("a", "b", "c"), "0 b 1 a", "");
   }
+
+  private static final House.Calls NEST = Made.deep(3).and(h -> {
+    h.thing(0, 0, "a");
+    h.thing(1, 0, "b");
+    h.thing(2, 0, "c");
+    h.use(2, "a");
+    h.use(2, "b");
+  });
+
+  private static void keepSafe() {
+    keeps(NEST, "0 x 1 y 2 z", "0 x 1 y 2 z");
+    keeps(NEST, "0 b", "");
+    keeps(NEST, "0 c", "");
+    keeps(NEST, "1 a", "");
+    keeps(NEST, "1 c", "");
+    keeps(NEST, "2 a", "");
+    keeps(NEST, "2 b", "");
+    keeps(NEST, "0 x 1 a", "0 x 1 a");
+    keeps(NEST, "0 x 1 x", "0 x");
+    keeps(NEST, "0 x 2 x", "0 x");
+    keeps(NEST, "1 x 2 b", "1 x 2 b");
+    keeps(NEST, "0 b 1 x 2 a", "1 x");
+    keeps(NEST, "0 a 1 b 2 c", "0 a 1 b 2 c");
+    House.Calls beside = NEST.and(h -> h.scope(0)).and(h -> h.thing(3, 0, "s"));
+    keeps(beside, "3 a", "3 a");
+    keeps(beside, "3 b", "3 b");
+    keeps(Made.named("a", "b"), "0 b 1 a", "");
+    House.Calls last = Made.deep(2).and(Made.uses(149)).and(h -> {
+      h.use(1, "a");
+      h.thing(1, 0, "b");
+    });
+    due.is("by the last use, the inner", House.of(last.and(renamed("1 a"))).keep(), 0);
+    due.is("by the last use, the outer", House.of(last.and(renamed("0 b"))).keep(), 0);
+  }
+
+  private static void keepStays() {
+    House.Calls kept = Made.named("a", "b", "c", "d").and(renamed("0 b 1 x 2 x 3 y")).and(h -> h.keep());
+    due.is("no name changes", names(House.of(kept)), "a b c d");
+    due.is("those that stay", House.of(kept).count(4), 2);
+    due.is("they are made", names(House.of(kept.and(h -> h.turn()))), "a x c y");
+    due.same("again", kept.and(h -> h.keep()), kept);
+    due.same("one that went is told anew", kept.and(renamed("0 z")),
+        Made.named("a", "b", "c", "d").and(renamed("0 z 1 x 3 y")));
+    due.leavesTrouble("keep", Made.named("a", "b").and(renamed("0 b")), h -> h.keep());
+  }
+
+  private static void keepCount() {
+    due.is("of none", House.of(Made.named("a")).keep(), 0);
+    due.is("none of two", House.of(Made.named("a", "b").and(renamed("0 b 1 a"))).keep(), 0);
+    due.is("one of two", House.of(Made.named("a", "b").and(renamed("0 b 1 c"))).keep(), 1);
+    due.is("two of two", House.of(Made.named("a", "b").and(renamed("0 c 1 a"))).keep(), 2);
+    House.Calls ring = Made.things(80).and(h -> {
+      for (int t = 0; t < 80; t++) {
+        h.rename(t, "n" + (t + 79) % 159);
+      }
+    });
+    due.is("all but the first of eighty", House.of(ring).keep(), 79);
+    House.Calls all = Made.things(80).and(h -> {
+      for (int t = 0; t < 80; t++) {
+        h.rename(t, "m" + t);
+      }
+    });
+    due.is("eighty", House.of(all).keep(), 80);
+    due.is("then made", House.of(all.and(h -> h.keep())).turn(), 80);
+    House.Calls one = Made.things(80).and(h -> {
+      for (int t = 0; t < 80; t++) {
+        h.rename(t, "x");
+      }
+    });
+    due.is("one of eighty", House.of(one).keep(), 1);
+  }
+
+  // ---- 29
 
   private static void count() {
-    NameHouse x = new NameHouse();
-    x.scope(0);
-    x.scope(0);
-    for (int i = 0; i < 3; i++) {
-      Due.thing(x, 0, 0, "a_B" + i);
-    }
-    for (int i = 0; i < 4; i++) {
-      Due.use(x, 1, "a_B0");
-    }
-    for (int i = 0; i < 5; i++) {
-      Due.word(x, 0, "a" + (char) ('a' + i));
-    }
-    x.renames();
-    Due.rename(x, 0, "z");
-    x.offer(2);
-    x.feed(0, 0, 0, 0, 0);
-    x.feed(0, 0, 0, 0, 0);
-    long[] all = {3, 3, 4, 5, 3, 3, 40};
-    for (int what = 0; what < all.length; what++) {
-      due.is("29: count(" + what + ")", x.count(what), all[what]);
-    }
-    int[] wrong = {-1, 7, HIGH, LOW};
-    for (int what : wrong) {
-      due.is("29: count(" + what + ")", x.count(what), -1);
-    }
+    due.test("29", "0 SCOPES, 1 THINGS, 2 USES, 3 WORDS, 4 RENAMES", RenamesTest::counts);
+    due.test("29", "5 bytes of OUT, 6 bytes of THE TAPE", RenamesTest::countBytes);
+    due.test("29", "NONE for others", RenamesTest::countNone);
   }
 
-  /** Calls that can't be refused, or tell no trouble, leave it; those that can set it anew. */
-  private static void trouble() {
-    NameHouse x = new NameHouse();
-    due.refused("30: refused", x, x.scope(5), 1);
-    x.feed(0, 0, 0, 0, 0);
-    x.about(0, 0);
-    x.means(0, 0);
-    x.told(0, 0);
-    x.part(0, 0);
-    x.way(0);
-    x.way(9);
-    x.odd(0);
-    x.isOdd(0);
-    x.mixed();
-    x.strange();
-    x.renames();
-    x.none();
-    x.hinders();
-    x.keep();
-    x.count(0);
-    Due.outThrows(x, 0);
-    Due.nameThrows(x, 0, 0);
-    due.is("30: left by all these", x.trouble(), 1);
-    due.refused("30: find, and the tape is empty", x, x.find(0, 0), 2);
-    due.is("30: refused anew", x.trouble(), 2);
-    due.is("30: by itself too", x.trouble(), 2);
-    x.scope(0);
-    due.is("30: scope", x.trouble(), 0);
-    String[] calls = {"thing", "use", "find", "word", "shorts", "alike", "offer", "rename", "turn",
-        "back"};
-    for (String call : calls) {
-      x.back();
-      x.back();
-      due.is("30: six ahead of " + call, x.trouble(), 6);
-      accepted(x, call);
-      due.is("30: no trouble behind " + call, x.trouble(), 0);
+  private static void counted(String what, House.Calls made, int... want) {
+    for (int i = 0; i < want.length; i++) {
+      int number = i;
+      due.is(what + ", count " + i, House.of(made).count(number), want[i]);
     }
+    due.leavesTrouble(what, made, h -> h.count(0));
   }
 
-  private static void accepted(NameHouse x, String call) {
-    switch (call) {
-      case "thing" -> Due.thing(x, 0, 0, "a");
-      case "use" -> Due.use(x, 0, "a");
-      case "find" -> Due.find(x, 0, "nothing");
-      case "word" -> Due.word(x, 0, "w");
-      case "shorts" -> x.shorts(0, -1);
-      case "alike" -> x.alike(0, 0);
-      case "offer" -> x.offer(0);
-      case "rename" -> Due.rename(x, 0, "b");
-      case "turn" -> x.turn();
-      default -> {
-        x.turn();
-        x.scope(99);
-        x.back();
+  private static void counts() {
+    counted("a new house", Made.NEW, 1, 0, 0, 0, 0);
+    House.Calls some = Made.deep(3).and(Made.named("a_B", "b", "c", "d")).and(Made.words(5))
+        .and(h -> {
+          h.use(1, "b");
+          h.use(1, "b");
+        }).and(renamed("0 x 1 y 1 z"));
+    counted("some", some, 3, 4, 2, 5, 2);
+    counted("refused ones don't count", some.and(h -> {
+      h.scope(3);
+      h.thing(0, 0, "b");
+      h.use(0, "z");
+      h.word(0, Made.word(0));
+      h.rename(4, 0);
+    }), 3, 4, 2, 5, 2);
+    counted("scopes", Made.deep(20), 20, 0, 0, 0, 0);
+    counted("things", Made.things(80), 1, 80, 0, 0, 0);
+    counted("uses", Made.uses(150), 1, 1, 150, 0, 0);
+    counted("words", Made.words(60), 1, 0, 0, 60, 0);
+    counted("renames", Made.things(80).and(h -> {
+      for (int t = 0; t < 80; t++) {
+        h.rename(t, "x");
       }
+    }), 1, 80, 0, 0, 80);
+    counted("made", Made.named("a").and(turned("0 b")), 1, 1, 0, 0, 0);
+  }
+
+  private static void countBytes() {
+    counted("a new house", Made.NEW, 1, 0, 0, 0, 0, 0, 0);
+    counted("some", Made.named("a_B").and(h -> h.offer(0)).and(Made.tape(40)), 1, 1, 0, 0, 0, 2, 40);
+    counted("most", Made.book("a", "abcdefghijkl").and(h -> h.shorts(0, 1)).and(Made.named("aA"))
+        .and(h -> h.offer(0)).and(Made.tape(200)), 1, 1, 0, 2, 0, 24, 200);
+    counted("one too many", Made.tape(200).and(Made.tape(20)), 1, 0, 0, 0, 0, 0, 200);
+  }
+
+  private static void countNone() {
+    for (int what : Made.outside(7)) {
+      due.asked("what " + what, COUNTS, h -> h.count(what), -1);
+    }
+  }
+
+  // ---- 30
+
+  private static void trouble() {
+    due.test("30", "TROUBLE.", RenamesTest::troubleOfCalls);
+  }
+
+  private static void troubleOfCalls() {
+    House.Calls made = COUNTS.and(h -> h.use(0, "other")).and(renamed("1 CNT")).and(Made.tape(200));
+    House.Call[] leave = {h -> h.feed(0, 0, 0, 0, 0), h -> h.about(0, 0), h -> h.about(9, 9),
+        h -> h.name(0, 0), h -> h.name(9, 9), h -> h.means(0, 0), h -> h.means(9, 9),
+        h -> h.told(0, 0), h -> h.told(9, 9), h -> h.part(0, 0), h -> h.part(9, 9), h -> h.way(0),
+        h -> h.way(9), h -> h.odd(0), h -> h.odd(9), h -> h.isOdd(0), h -> h.isOdd(9),
+        h -> h.mixed(), h -> h.strange(), h -> h.out(0), h -> h.renames(), h -> h.none(),
+        h -> h.hinders(), h -> h.keep(), h -> h.count(0), h -> h.count(9), h -> h.trouble()};
+    for (int i = 0; i < leave.length; i++) {
+      due.leavesTrouble("call " + i, made, leave[i]);
+      due.leavesTrouble("call " + i + " behind trouble 6", made.and(h -> h.back()), leave[i]);
+    }
+    House h = new House();
+    int[] want = {6, 1, 2, 2, 6, 0, 4, 5, 0, 3};
+    House.Call[] calls = {c -> c.back(), c -> c.scope(7), c -> c.word(99, 0), c -> c.thing(0, 0, "1"),
+        c -> c.use(0, "a"), c -> c.thing(0, 0, "a"), c -> c.thing(0, 0, "a"),
+        c -> c.thing(0, 0, "b") + c.rename(0, "b") + c.turn(), c -> c.none() + c.turn(),
+        c -> {
+          Made.deep(20).on(c);
+          return c.scope(0);
+        }};
+    for (int i = 0; i < want.length; i++) {
+      calls[i].on(h);
+      due.is("behind call " + i, h.trouble(), want[i]);
+      due.is("asked again", h.trouble(), want[i]);
     }
   }
 }

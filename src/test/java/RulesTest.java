@@ -1,12 +1,16 @@
 import java.lang.reflect.Array;
 import java.lang.reflect.Field;
+import java.lang.reflect.InvocationTargetException;
 import java.lang.reflect.Method;
 import java.lang.reflect.Modifier;
 import java.nio.file.Files;
 import java.nio.file.Path;
 import java.util.Arrays;
+import java.util.Comparator;
 import java.util.IdentityHashMap;
 import java.util.Map;
+import java.util.NoSuchElementException;
+import java.util.Random;
 import java.util.Set;
 import java.util.TreeSet;
 import java.util.regex.Matcher;
@@ -25,6 +29,9 @@ public final class RulesTest {
   private static final String[] FORBIDDEN = {"\\btry\\b", "\\bcatch\\b", "\\bfinally\\b", "->", "::",
       "\\bassert\\b", "\\bsynchronized\\b", "\\binstanceof\\b", "\\bSystem\\b", "\\bpackage\\b",
       "Exact\\b", "\\bnull\\b", "\\bprotected\\b", "\\bvar\\b", "\\bstatic \\{", "\\bObject\\b"};
+  private static final Method[] METHODS = Arrays.stream(NameHouse.class.getDeclaredMethods())
+      .filter(m -> Modifier.isPublic(m.getModifiers()))
+      .sorted(Comparator.comparing(Method::getName)).toArray(Method[]::new);
   private static final Due due = new Due("RulesTest");
 
   public static void main(String[] args) throws Exception {
@@ -32,6 +39,7 @@ public final class RulesTest {
     members();
     source();
     room();
+    anyCall();
     due.end();
   }
 
@@ -108,22 +116,54 @@ public final class RulesTest {
 
   /** What one object takes of the room, and that calls take no more. */
   private static void room() throws Exception {
-    NameHouse x = new NameHouse();
-    long[] fresh = size(x);
+    House h = new House();
+    long[] fresh = size(h.bare());
     for (int i = 0; i < 20; i++) {
-      Due.word(x, i % 16, "w" + (char) ('a' + i));
-      Due.thing(x, 0, i % 3, "w" + (char) ('a' + i) + "_Xy");
-      Due.use(x, 0, "w" + (char) ('a' + i) + "_Xy");
-      x.renames();
-      x.keep();
-      x.turn();
-      x.back();
+      h.word(i % 16, "w" + (char) ('a' + i));
+      h.thing(0, i % 3, "w" + (char) ('a' + i) + "_Xy");
+      h.use(0, "w" + (char) ('a' + i) + "_Xy");
+      h.renames();
+      h.keep();
+      h.turn();
+      h.back();
     }
-    long[] later = size(x);
+    long[] later = size(h.bare());
     due.is("room: objects", fresh[0] < 1000, true);
     due.is("room: fields and elements", fresh[1] < 20000, true);
     due.is("room: objects later", later[0], fresh[0]);
     due.is("room: fields and elements later", later[1], fresh[1]);
+  }
+
+  /** Rule 7, in any state and past the 512th call too: only name and out throw, and only what they may. */
+  private static void anyCall() throws Exception {
+    int[] edges = {0, 1, 2, 3, 15, 16, 19, 20, 24, 59, 60, 79, 80, 149, 150, 200, 201, -1, -2,
+        Integer.MAX_VALUE, Integer.MIN_VALUE};
+    Random random = new Random(7);
+    int thrown = 0;
+    for (int run = 0; run < 20; run++) {
+      NameHouse house = new NameHouse();
+      for (int call = 0; call < 3000; call++) {
+        Method m = METHODS[random.nextInt(METHODS.length)];
+        Object[] numbers = new Object[m.getParameterCount()];
+        boolean texts = m.getName().equals("feed");
+        for (int i = 0; i < numbers.length; i++) {
+          numbers[i] = texts ? 0x61616161 + 0x01010101 * random.nextInt(26)
+              : random.nextInt(8) == 0 ? edges[random.nextInt(edges.length)] : random.nextInt(13);
+        }
+        thrown += throwsWrong(house, m, numbers) ? 1 : 0;
+      }
+    }
+    due.is("rule 7: calls that threw what they may not", thrown, 0);
+  }
+
+  private static boolean throwsWrong(NameHouse house, Method m, Object[] numbers) throws Exception {
+    try {
+      m.invoke(house, numbers);
+      return false;
+    } catch (InvocationTargetException e) {
+      boolean may = m.getName().equals("name") || m.getName().equals("out");
+      return !may || e.getCause().getClass() != NoSuchElementException.class;
+    }
   }
 
   private static long[] size(Object root) throws Exception {
