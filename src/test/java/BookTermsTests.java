@@ -131,7 +131,7 @@ final class BookTermsTests {
     h.thing(0, 0, "x");
     h.thing(0, 0, "_1x");
     h.thing(0, 0, "abcdefghijklm");
-    h.thing(0, 0, "mabcdefghijkl");
+    h.thing(0, 0, "pabcdefghijkl");
     for (int t = 0; t < 5; t++) {
       due.is("of thing " + t, h.about(t, 5), 0);
     }

@@ -292,7 +292,7 @@ public final class BookTest {
     h.thing(0, 0, "getTheSIZE2OfIt");
     h.thing(0, 0, "Abcdefghijkl");
     h.thing(0, 0, "abcdefghijklm");
-    h.thing(0, 0, "mabcdefghijkl");
+    h.thing(0, 0, "pabcdefghijkl");
     h.thing(0, 0, "gets_ge_Get");
   };
 

@@ -99,6 +99,10 @@ public final class RenamesTest {
         .and(Made.named("a".repeat(19) + "_cnt", "a".repeat(20) + "Cnt"));
     offerStays(tooLong, 0);
     offerStays(tooLong, 1);
+    due.is("one behind a too long one", House.of(tooLong.and(h -> h.thing(0, 0, "cnt"))
+        .and(h -> h.offer(0))).offer(2), 5);
+    due.is("of three but the too long ones",
+        House.of(tooLong.and(h -> h.thing(0, 0, "cnt"))).renames(), 1);
     House.Calls farTooLong = Made.book("a", "abcdefghijkl").and(h -> h.shorts(0, 1))
         .and(Made.named("a_a_a_a_a_a_a_a_a_a_a_a"));
     offerStays(farTooLong, 0);
@@ -243,12 +247,17 @@ public final class RenamesTest {
   }
 
   private static void renamesOfOffers() {
-    due.same("as if told one by one", COUNTS.and(h -> h.renames()), COUNTS.and(renamed("0 my_count 3 Count")));
+    due.same("as if told one by one", COUNTS.and(h -> h.renames()),
+        COUNTS.and(renamed("0 my_count 3 Count")));
     House h = House.of(COUNTS.and(c -> c.renames()));
     due.is("no name changes yet", names(h), "my_cnt other _1a CNT");
     h.turn();
     due.is("then", names(h), "my_count other _1a Count");
     due.is("and none is offered any more", h.renames(), 0);
+    House.Calls later = Made.book("big", "large").and(c -> c.alike(0, 1))
+        .and(Made.named("large", "largeBox", "my_big"));
+    due.is("by what is used most", names(House.of(later.and(c -> c.renames()).and(c -> c.turn()))),
+        "large largeBox my_large");
     House.Calls heads = Made.book("big", "large").and(c -> c.alike(0, 1))
         .and(Made.named("big", "bigBox", "large", "my_large"));
     House all = House.of(heads.and(c -> c.renames()));
@@ -295,7 +304,8 @@ public final class RenamesTest {
     House.Calls told = Made.named("a", "b").and(renamed("0 x 1 y"));
     due.same("as if none were told", told.and(h -> h.none()), Made.named("a", "b"));
     due.same("none twice", told.and(h -> h.none()).and(h -> h.none()), Made.named("a", "b"));
-    due.same("told anew", told.and(h -> h.none()).and(renamed("0 z")), Made.named("a", "b").and(renamed("0 z")));
+    due.same("told anew", told.and(h -> h.none()).and(renamed("0 z")),
+        Made.named("a", "b").and(renamed("0 z")));
     due.same("offers", COUNTS.and(h -> h.renames()).and(h -> h.none()), COUNTS);
     due.leavesTrouble("none", told, h -> h.none());
     House.Calls unsafe = Made.named("a", "b").and(renamed("0 b")).and(h -> h.none());

@@ -4,7 +4,8 @@ import java.util.List;
 /**
  * All that a house shows which some calls made, but for TROUBLE: what it answers when it is asked, and
  * what comes of the calls that bring to light what can't be asked (the RENAMES told, the turn() that can
- * be taken back, the bytes on the tape). It takes as many houses, made alike, as the questions need.
+ * be taken back, the bytes on the tape), and of the next calls that come in. It takes as many houses,
+ * made alike, as the questions need.
  */
 final class State {
   private static final int NAME_BYTES = 24;
@@ -25,6 +26,7 @@ final class State {
     state.tryCalls("keep", made, h -> h.keep());
     state.tryCalls("keep, turn", made.and(h -> h.keep()), h -> h.turn());
     state.tryTape(made);
+    state.tryNext(made);
     return state.shown;
   }
 
@@ -138,5 +140,20 @@ final class State {
     int renames = h.rename(0, n);
     int turned = h.turn();
     shown.add("tape, rename " + n + " = " + renames + ", " + turned + " " + h.name(0));
+  }
+
+  /** What the next calls answer: names and words come in, offers are made. */
+  private void tryNext(House.Calls ahead) {
+    House.Calls emptied = ahead.and(h -> h.find(0, h.count(6)));
+    House h = House.of(emptied);
+    shown.add("next scope = " + h.scope(0));
+    shown.add("next word = " + h.word(1, "next"));
+    shown.add("next find = " + h.find(0, "nextName"));
+    shown.add("next thing = " + h.thing(0, 1, "nextName"));
+    shown.add("next use = " + h.use(0, "nextName"));
+    shown.add("next offer = " + h.offer(0) + " " + h.out());
+    shown.add("next renames = " + h.renames() + ", turn = " + h.turn() + " " + h.name(0));
+    House g = House.of(emptied);
+    shown.add("next rename = " + g.rename(0, "nextName") + ", turn = " + g.turn() + " " + g.name(0));
   }
 }

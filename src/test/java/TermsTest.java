@@ -134,6 +134,8 @@ public final class TermsTest {
     isName("a".repeat(24));
     isName("abcdefghijklmnopqrstuvwx");
     isNoName("a".repeat(25));
+    House h = House.of(Made.named("a".repeat(25), "a"));
+    due.is("the next one behind a longer one", h.name(0), "a");
     isNoName("a".repeat(26));
     isNoName("a".repeat(48));
     isNoName("a".repeat(200));
