@@ -70,6 +70,7 @@ public final class NameHouse {
         return tape.size();
     }
 
+    /** A wrong n leaves the tape; bytes that are there but no NAME or WORD go from it too. */
     private boolean isOnTape(int n) {
         return n >= 0 && n <= tape.size();
     }
@@ -219,6 +220,7 @@ public final class NameHouse {
     private boolean wouldCatchUse(int scope, Text newName, boolean then) {
         for (int u = 0; u < uses.size(); u++) {
             int meant = uses.thingOf(u);
+            // Both scopes are around the use, so the one with the greater number is the nearer.
             if (scope > things.scopeOf(meant)
                     && scopes.isWithin(uses.scopeOf(u), scope)
                     && nameNowOrThen(meant, then).same(newName)) {
@@ -237,7 +239,7 @@ public final class NameHouse {
     private int thingMeant(int scope, Text usedName, boolean then) {
         int found = NOTHING;
         int nearest = NONE;
-        // A scope's number is above that of each scope around it, so the nearest is the greatest.
+        // Of the scopes around the use the nearest has the greatest number.
         for (int t = 0; t < things.size(); t++) {
             int home = things.scopeOf(t);
             if (home > nearest && scopes.isWithin(scope, home)
@@ -472,7 +474,7 @@ public final class NameHouse {
     }
 
     public int turn() {
-        if (!isSafe()) {
+        if (firstDoubled() != NOTHING || firstStrayed() != NOTHING) {
             return refused(NOT_SAFE);
         }
         former.clear();
@@ -574,10 +576,6 @@ public final class NameHouse {
             int b = head == NOTHING ? cut.at(i, j) : book.letterOf(head, j);
             draft.add(greatAll || greatFirst && j == 0 ? greatOf(b) : b);
         }
-    }
-
-    private boolean isSafe() {
-        return firstDoubled() == NOTHING && firstStrayed() == NOTHING;
     }
 
     /**
@@ -769,6 +767,7 @@ public final class NameHouse {
         private final int[] smalls = new int[NAME_BYTES];
         private final int[] starts = new int[NAME_BYTES];
         private final int[] ends = new int[NAME_BYTES];
+        private final long[] keys = new long[NAME_BYTES];
         private int size = 0;
 
         int size() {
@@ -792,20 +791,9 @@ public final class NameHouse {
             return isDigit(at(i, 0));
         }
 
-        /**
-         * A number that stands for the letters of a part, five bits each, the first highest; 0 if
-         * no word can be written so.
-         */
+        /** The key by which the book would have a part; 0, which is no word's, if it can't. */
         long keyOf(int i) {
-            int length = lengthOf(i);
-            if (length > WORD_LETTERS || isNumber(i)) {
-                return 0;
-            }
-            long key = 0;
-            for (int j = 0; j < length; j++) {
-                key = key * 32 + (at(i, j) - 'a' + 1);
-            }
-            return key;
+            return has(i) ? keys[i] : 0;
         }
 
         void split(Text text) {
@@ -826,11 +814,27 @@ public final class NameHouse {
         }
 
         private void add(int start, int end) {
-            if (start < end && size < NAME_BYTES) {
+            if (start >= 0 && start < end && end <= NAME_BYTES && size < NAME_BYTES) {
                 starts[size] = start;
                 ends[size] = end;
+                keys[size] = keyBetween(start, end);
                 size++;
             }
+        }
+
+        /** Five bits for each letter, the first highest, so that twelve fit into a long. */
+        private long keyBetween(int start, int end) {
+            if (end - start > WORD_LETTERS) {
+                return 0;
+            }
+            long key = 0;
+            for (int i = start; i < end; i++) {
+                if (!isSmall(smalls[i])) {
+                    return 0;
+                }
+                key = key * 32 + (smalls[i] - 'a' + 1);
+            }
+            return key;
         }
 
         private static boolean isCutAhead(Text text, int i) {
@@ -1003,7 +1007,10 @@ public final class NameHouse {
         }
     }
 
-    /** The scopes, each with the set of those that it stands in, itself among them, as bits. */
+    /**
+     * The scopes, each with the set of those that it stands in, itself among them, as bits. A scope
+     * is told behind the one around it, so of two that one stands in the greater number is nearer.
+     */
     private static final class Scopes {
         private final int[] chains = new int[SCOPES];
         private int size = 1;
@@ -1163,8 +1170,10 @@ public final class NameHouse {
         }
 
         void put(int t, Text itsName) {
-            nameOf(t).set(itsName);
-            putAgain(t);
+            if (t >= 0 && t < THINGS) {
+                nameRow[t].set(itsName);
+                putAgain(t);
+            }
         }
 
         /** A rename that was there counts again; its name is still in its row. */

@@ -82,12 +82,22 @@ public final class RulesTest {
     }
     due.is("rule 1: private methods by public names", doubles, 0);
     due.is("rule 11: classes", NameHouse.class.getDeclaredClasses().length < 12, true);
+    small(NameHouse.class);
     for (Class<?> c : NameHouse.class.getDeclaredClasses()) {
+      small(c);
       due.is("rule 1: static " + c.getName(), Modifier.isStatic(c.getModifiers()), true);
       for (Method m : c.getDeclaredMethods()) {
-        due.is("rule 11: parameters of " + m.getName(), m.getParameterCount() <= 7, true);
         due.is("rule 1: " + m.getName() + " is not of the face", faceNames.contains(m.getName()), false);
       }
+    }
+  }
+
+  private static void small(Class<?> c) {
+    long fields = Arrays.stream(c.getDeclaredFields())
+        .filter(f -> !Modifier.isStatic(f.getModifiers())).count();
+    due.is("rule 11: fields of " + c.getName(), fields <= 20, true);
+    for (Method m : c.getDeclaredMethods()) {
+      due.is("rule 11: parameters of " + m.getName(), m.getParameterCount() <= 7, true);
     }
   }
 
@@ -102,7 +112,14 @@ public final class RulesTest {
     int statics = count(code, "static (?!final )[a-z]+(\\[\\])* \\w+( =|;)");
     due.is("rule 5: static fields that aren't final", statics, 0);
     due.is("rule 6: throws", count(code, "\\bthrow\\b"), 2);
+    due.is("rule 11: methods of sixty lines", count(code, linesWithin(60)), 0);
+    due.is("rule 11: methods of twenty lines are seen", count(code, linesWithin(20)) > 0, true);
     due.is("signs 1 to 127", text.chars().allMatch(c -> c >= 1 && c <= 127), true);
+  }
+
+  /** A method, of the class or of one inside it, with so many lines or more between its braces. */
+  private static String linesWithin(int lines) {
+    return "(?m)^( {4}| {8})(?=\\S)(?!.*\\bclass\\b).*\\{\n(?:(?!\\1\\}\n).*\n){" + lines + "}";
   }
 
   private static int count(String code, String pattern) {
